@@ -1,0 +1,54 @@
+import java.nio.charset.StandardCharsets;
+
+/** Holds answers against the ones that are due, and feeds texts. */
+final class Due {
+    private int asked;
+    private int wrong;
+
+    void is(String call, long want, long got) {
+        asked++;
+        if (got != want) {
+            wrong++;
+            System.out.println(call + " answered " + got + ", due is " + want);
+        }
+    }
+
+    int wrong() {
+        return wrong;
+    }
+
+    /** The last call of each test: exit code 1 if one answer was not as due. */
+    void close() {
+        System.out.println(wrong == 0 ? asked + " answers are as due" : wrong + " of " + asked + " answers are not as due");
+        if (wrong != 0) {
+            System.exit(1);
+        }
+    }
+
+    /** Feeds a text behind what the TAPE has; answers how many bytes it has then. */
+    static int tell(WordSeats x, String text) {
+        byte[] bytes = text.getBytes(StandardCharsets.ISO_8859_1);
+        int length = x.count(10);
+        for (int at = 0; at < bytes.length; at += 20) {
+            int[] five = new int[5];
+            for (int i = 0; i < 20; i++) {
+                int b = at + i < bytes.length ? bytes[at + i] & 255 : 0;
+                five[i / 4] |= b << 24 - 8 * (i % 4);
+            }
+            x.feed(five[0], five[1], five[2], five[3], five[4]);
+        }
+        return x.end(length + bytes.length);
+    }
+
+    /** A new object with the CHAMBER of a text. */
+    static WordSeats chamber(String text) {
+        WordSeats x = new WordSeats();
+        tell(x, text);
+        int lines = x.chamber();
+        if (lines < 1) {
+            System.out.println("chamber() answered " + lines + ", fault " + x.fault(0) + " at " + x.fault(1) + ": " + text);
+            System.exit(1);
+        }
+        return x;
+    }
+}
