@@ -483,8 +483,7 @@ public final class WordSeats {
             return NO_SUCH;
         }
         int turns = parties.turns(party);
-        int common = Parties.commonDivisor(turns, Parties.ORDERS);
-        return (what == 0 ? turns : Parties.ORDERS) / common;
+        return (what == 0 ? turns : Parties.ORDERS) / Parties.commonDivisor(turns);
     }
 
     /** Promise 47. */
@@ -920,7 +919,7 @@ public final class WordSeats {
         private void readSpeaker() {
             begin(draft.speakers < MOST_SPEAKERS);
             expect("in");
-            int place = readNumber(0, draft.districts - 1);
+            int home = readNumber(0, draft.districts - 1);
             expect("votes");
             int weight = readNumber(1, 99);
             expect("comes");
@@ -928,7 +927,7 @@ public final class WordSeats {
             expect("needs");
             int needs = readMeanings();
             if (fault == 0) {
-                draft.addSpeaker(place, weight, comes, needs);
+                draft.addSpeaker(home, weight, comes, needs);
             }
         }
 
@@ -1353,24 +1352,25 @@ public final class WordSeats {
         }
 
         void open(int district) {
-            open(chamber.standingIn(district), chamber.speakersIn(district));
+            standing = chamber.standingIn(district);
+            for (int speaker = 0; speaker < chamber.speakers; speaker++) {
+                fillZeal(speaker);
+            }
+            enrol(chamber.speakersIn(district));
         }
 
-        void open(int standing, int people) {
-            this.standing = standing;
+        /** The SPEAKERS of the DISTRICT, who all come. */
+        void enrol(int people) {
             voters = people;
             roll = chamber.weightOf(people);
-            for (int speaker = 0; speaker < chamber.speakers; speaker++) {
-                if (holds(people, speaker)) {
-                    fillZeal(speaker);
-                }
-            }
         }
 
         private void fillZeal(int speaker) {
             for (int word = 0; word < chamber.words; word++) {
-                int liked = chamber.liking(speaker, word);
-                zeal[speaker * MOST_WORDS + word] = liked == 0 ? 0 : liked * LIKED_ONCE + chamber.stature(word);
+                if (holds(standing, word)) {
+                    int liked = chamber.liking(speaker, word);
+                    zeal[speaker * MOST_WORDS + word] = liked == 0 ? 0 : liked * LIKED_ONCE + chamber.stature(word);
+                }
             }
         }
 
@@ -1737,17 +1737,23 @@ public final class WordSeats {
 
         /** The least set of the fewest WORDS by which all these MEANINGS can be said; NONE. */
         int fewestFor(int meanings) {
-            int fewest = NONE;
-            for (int set = 0; set < 1 << chamber.words; set++) {
-                boolean fewer = fewest == NONE || Integer.bitCount(set) < Integer.bitCount(fewest);
-                if (fewer && (set & chamber.terms.dead) == 0) {
-                    learn(set);
-                    if ((unsayable() & meanings) == 0) {
-                        fewest = set;
-                    }
+            int alive = (1 << chamber.words) - 1 & ~chamber.terms.dead;
+            if (!says(alive, meanings)) {
+                return NONE;
+            }
+            int fewest = alive;
+            for (int set = 0; set <= alive; set++) {
+                boolean fewer = Integer.bitCount(set) < Integer.bitCount(fewest);
+                if (fewer && (set & ~alive) == 0 && says(set, meanings)) {
+                    fewest = set;
                 }
             }
             return fewest;
+        }
+
+        private boolean says(int set, int meanings) {
+            learn(set);
+            return (unsayable() & meanings) == 0;
         }
 
         int cheapestHouse() {
@@ -1810,16 +1816,14 @@ public final class WordSeats {
             return turns;
         }
 
-        /** 1 and above if b is; halts as b falls with each step. */
-        static int commonDivisor(int a, int b) {
-            int greater = a;
-            int lesser = b;
-            while (lesser > 0) {
-                int rest = greater % lesser;
-                greater = lesser;
-                lesser = rest;
+        /** The greatest one of so many turns and of all orders; always 1 and above. */
+        static int commonDivisor(int turns) {
+            for (int divisor = ORDERS; divisor > 1; divisor--) {
+                if (turns % divisor == 0 && ORDERS % divisor == 0) {
+                    return divisor;
+                }
             }
-            return Math.max(1, greater);
+            return 1;
         }
 
         int smallestRule() {
@@ -1915,9 +1919,9 @@ public final class WordSeats {
         }
 
         private void tryPeople(int party, int district) {
-            int standing = chamber.standingIn(district);
+            election.open(district);
             for (int set = 1; set < 1 << chamber.speakers; set++) {
-                election.open(standing, set);
+                election.enrol(set);
                 election.hold(chamber.law);
                 int taker = election.taker();
                 theirs[(district << MOST_PUT) + set] = taker != NONE && chamber.party[taker] == party;
@@ -1945,6 +1949,9 @@ public final class WordSeats {
         }
 
         int placeOf(int speaker) {
+            if (!canDraw()) {
+                return NONE;
+            }
             int rest = firstRow;
             for (int behind = chamber.speakers - 1; behind > speaker; behind--) {
                 rest /= chamber.districts;
