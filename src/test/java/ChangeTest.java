@@ -7,6 +7,7 @@ final class ChangeTest {
         need();
         bill();
         drawn();
+        justBelow();
         barWhoeverComes();
         years();
         withoutChamber();
@@ -93,6 +94,20 @@ final class ChangeTest {
         x.need(0, 8);
         DUE.is("speaker 0 likes nobody: drawn(0, 0)", -1, x.drawn(0, 0));
         DUE.is("speaker 0 likes nobody: drawn(1, 0)", 1, x.drawn(1, 0));
+    }
+
+    /** By seed 1 the draws are 38, 58, 13: who comes has one below its number. */
+    private static void justBelow() {
+        for (int comes = 37; comes <= 39; comes++) {
+            WordSeats x = Due.chamber("chamber meanings 1 law first bar 0 dies 1;district seats 1;word letters 1 in 0 party 0 means 0;"
+                + "speaker in 0 votes 1 comes " + comes + " needs 0;");
+            DUE.is("comes " + comes + ": drawn(1, 0)", comes > 38 ? 0 : -1, x.drawn(1, 0));
+        }
+        WordSeats x = Due.chamber("chamber meanings 1 law first bar 0 dies 1;district seats 1;district seats 1;"
+            + "word letters 1 in 0 party 0 means 0;word letters 1 in 1 party 0 means 0;"
+            + "speaker in 1 votes 1 comes 39 needs 0;speaker in 0 votes 1 comes 58 needs 0;speaker in 1 votes 1 comes 13 needs 0;");
+        DUE.is("58 of 58: drawn(1, 0)", -1, x.drawn(1, 0));
+        DUE.is("38 of 39: drawn(1, 1)", 1, x.drawn(1, 1));
     }
 
     /** 8 of 20 votes come: those who stay away count for the bar. */

@@ -150,6 +150,10 @@ final class ElectionTest {
         DUE.is("synonyms(-1)", -2, x.synonyms(-1));
         x.stand(7, 0);
         DUE.is("of another district: synonyms(6)", 0, x.synonyms(6));
+        WordSeats three = Due.chamber("chamber meanings 2 law first bar 0 dies 1;district seats 1;"
+            + "word letters 1 in 0 party 0 means 1 0;word letters 2 in 0 party 0 means 0 1;word letters 3 in 0 party 0 means 0;"
+            + "word letters 4 in 0 party 0 means 0 1 0;");
+        row("three: synonyms(", new int[] {10, 9, 0, 3, -2}, three::synonyms);
     }
 
     private static void spoilers() {
@@ -166,6 +170,14 @@ final class ElectionTest {
         x.bill(0, 3);
         row("approve: spoils(", new int[] {2, 2, 0, 2, -2}, x::spoils);
         DUE.is("approve: spoilers()", 0, x.spoilers());
+        DUE.is("none: spoilers()", -2, new WordSeats().spoilers());
+        // Word 0 takes the votes of speaker 0 from word 2.
+        WordSeats first = Due.chamber("chamber meanings 3 law first bar 0 dies 1;district seats 1;"
+            + "word letters 9 in 0 party 0 means 0;word letters 3 in 0 party 0 means 1;word letters 2 in 0 party 0 means 0 2;"
+            + "speaker in 0 votes 3 comes 0 needs 0;speaker in 0 votes 4 comes 0 needs 1;speaker in 0 votes 2 comes 0 needs 2;");
+        DUE.is("first: elected()", 2, first.elected());
+        row("first: spoils(", new int[] {2, 0, 1, -2}, first::spoils);
+        DUE.is("first: spoilers()", 1, first.spoilers());
     }
 
     /** Three words with two votes each: the longer, then the lesser number; struck the shorter, then the greater. */

@@ -5,6 +5,7 @@ final class KeepTest {
     public static void main(String[] args) {
         counts();
         images();
+        imagesKeepTerms();
         imagesKeepTheChamberAlone();
         rows();
         writes();
@@ -62,6 +63,7 @@ final class KeepTest {
         DUE.is("1: led(2)", -1, x.led(2));
         DUE.is("1: undo()", 1, x.undo());
         DUE.is("1: word(1, 4)", 1, x.word(1, 4));
+        DUE.is("1: word(3, 4)", 1, x.word(3, 4));
         DUE.is("back(2)", -6, x.back(2));
         DUE.is("back(0)", 0, x.back(0));
         DUE.is("0: count(8)", 0, x.count(8));
@@ -73,6 +75,30 @@ final class KeepTest {
         DUE.is("as it was: speaker(3, 3)", 12, x.speaker(3, 3));
         DUE.is("back(1)", 0, x.back(1));
         DUE.is("as it was: count(8)", 2, x.count(8));
+    }
+
+    /** Another chamber with terms of its own comes between an image and what it is gone back to. */
+    private static void imagesKeepTerms() {
+        WordSeats x = Due.chamber(Texts.SPOILT);
+        x.bill(2, 9);
+        for (int i = 0; i < 5; i++) {
+            x.term();
+        }
+        x.image(1);
+        Due.tell(x, Texts.LAWS);
+        x.chamber();
+        for (int i = 0; i < 7; i++) {
+            x.term();
+        }
+        DUE.is("back(1)", 0, x.back(1));
+        for (int held = 5; held > 0; held--) {
+            DUE.is("word(0, 4)", 0, x.word(0, 4));
+            DUE.is("word(3, 4)", held, x.word(3, 4));
+            DUE.is("word(3, 5)", 0, x.word(3, 5));
+            DUE.is("sitting()", 1, x.sitting());
+            DUE.is("undo()", held - 1, x.undo());
+        }
+        DUE.is("sitting()", 0, x.sitting());
     }
 
     private static void imagesKeepTheChamberAlone() {

@@ -103,6 +103,19 @@ final class PartyTest {
         DUE.is("one: share(3, 1)", 1, one.share(3, 1));
         DUE.is("one: coalition()", 8, one.coalition());
         DUE.is("one: breaks(15)", 8, one.breaks(15));
+        // 4 of 7 are more than half.
+        WordSeats laws = Due.chamber(Texts.LAWS);
+        laws.bill(0, 3);
+        laws.term();
+        DUE.is("laws: seats(3)", 4, laws.seats(3));
+        DUE.is("laws: majority(8)", 1, laws.majority(8));
+        DUE.is("laws: majority(7)", 0, laws.majority(7));
+        // Seats 4, 1, 1, 4: three parties come first by their bits, but two are fewer.
+        WordSeats fewer = Due.chamber(FOUR.replace("seats 1", "seats 4 ").replace("seats 3", "seats 1").replace("seats 2", "seats 1"));
+        fewer.term();
+        DUE.is("fewer: seats(3)", 4, fewer.seats(3));
+        DUE.is("fewer: majority(7)", 1, fewer.majority(7));
+        DUE.is("fewer: coalition()", 9, fewer.coalition());
     }
 
     private static void lists() {
@@ -143,6 +156,12 @@ final class PartyTest {
         // By bar 60 party 1 has 11 of 21 no more; 11 of 16 are enough: 5 and 11, but then 5 and 4 are not.
         x.bill(1, 60);
         put(x, 1, 1, new int[] {0, 0, 0, 1});
+        // Word 1 of party 0 stands in district 1 alone: there it needs speaker 0.
+        WordSeats last = Due.chamber("chamber meanings 2 law first bar 0 dies 1;district seats 1;district seats 1;"
+            + "word letters 1 in 0 party 1 means 0;word letters 1 in 1 party 0 means 0;"
+            + "speaker in 0 votes 1 comes 0 needs 0;speaker in 0 votes 1 comes 0 needs 1;");
+        put(last, 0, 1, new int[] {1, 0});
+        put(last, 1, 1, new int[] {0, 1});
         // Four speakers for four districts: each row is a permutation, the first is the least.
         WordSeats four = Due.chamber(FOUR);
         put(four, 0, 1, new int[] {0, 1, 2, 3});

@@ -60,6 +60,13 @@ final class SpeechTest {
         one.stand(3, 0);
         sat(one, 5, 0, 15);
         sat(one, 1, 4, 4, 1, 2);
+        // Words 0 and 3 are of one district, the others of one each.
+        WordSeats three = Due.chamber("chamber meanings 1 law first bar 0 dies 1;district seats 1;district seats 1;district seats 1;"
+            + "word letters 1 in 0 party 0 means 0;word letters 1 in 1 party 0 means 0;word letters 1 in 2 party 0 means 0;"
+            + "word letters 1 in 0 party 0 means 0;");
+        sat(three, 12, 0, 15);
+        sat(three, 0, 0, 0, 0, 0, 0, 1, 0, 3);
+        sat(three, 1, 7, 7, 0, 0, 0, 1, 0, 2);
         WordSeats bare = Due.chamber("chamber meanings 1 law first bar 0 dies 1;");
         sat(bare, 1, 0, 0);
         sat(bare, 0, 0, 0, 0, 9);

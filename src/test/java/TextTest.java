@@ -134,6 +134,13 @@ final class TextTest {
         faulty(1, 43, HEAD + ";");
         faulty(1, 43, HEAD + "9");
         faulty(1, 43, HEAD + "seats 3;");
+        faulty(1, 43, HEAD + "districtz seats 3;");
+        faulty(1, 43, HEAD + "adistrict seats 3;");
+        faulty(1, 60, SEAT + "cord letters 3 in 0 party 0 means 0;");
+        faulty(1, 60, SEAT + "work letters 3 in 0 party 0 means 0;");
+        faulty(1, 43, HEAD + "{district seats 3;");
+        faulty(1, 58, HEAD + "district seats /3;");
+        faulty(1, 58, HEAD + "district seats :3;");
         faulty(1, 43, HEAD + (char) 233);
         faulty(1, 43, HEAD + (char) 0);
         faulty(1, 60, HEAD + "district seats 3 4;");

@@ -76,6 +76,13 @@ final class TongueTest {
         DUE.is("like, said so: round(1)", -1, like.round(1));
         DUE.is("like: least(2)", 14, like.least(2));
         DUE.is("like, the first: round(2)", 1, like.round(2));
+        WordSeats longer = Due.chamber("chamber meanings 3 law approve bar 0 dies 9;district seats 1;"
+            + "word letters 4 in 0 party 0 means 0;speaker in 0 votes 1 comes 0 needs 0;"
+            + "round 2 by 1 and 0;round 1 by 0 and 0;round 2 by 0 and 0;");
+        longer.term();
+        DUE.is("longer: least(1)", 9, longer.least(1));
+        DUE.is("longer: least(2)", 9, longer.least(2));
+        DUE.is("longer, not the first for it: round(2)", 2, longer.round(2));
         StringBuilder doubled = new StringBuilder("chamber meanings 8 law first bar 0 dies 9;district seats 1;"
             + "word letters 12 in 0 party 0 means 0;speaker in 0 votes 99 comes 0 needs 0 7;");
         for (int meaning = 7; meaning > 0; meaning--) {
@@ -142,6 +149,9 @@ final class TongueTest {
         DUE.is("bare: by(1)", -2, bare.by(1));
         WordSeats empty = Due.chamber("chamber meanings 1 law first bar 0 dies 1;district seats 2;");
         DUE.is("nobody stands: cheapest(0)", -1, empty.cheapest(0));
+        DUE.is("like, the first: cheapest(0)", 1, like.cheapest(0));
+        like.stand(2, 0);
+        DUE.is("like, the first of two: cheapest(0)", 1, like.cheapest(0));
     }
 
     private static void feints() {
@@ -196,6 +206,14 @@ final class TongueTest {
         DUE.is("gains(2)", 1, x.gains(2));
         DUE.is("feint(3)", 3, x.feint(3));
         DUE.is("restless()", 14, x.restless());
+        // Speaker 0 votes for word 2, the longer one; with its votes word 0 would sit, which it likes as much.
+        WordSeats first = Due.chamber("chamber meanings 3 law first bar 0 dies 1;district seats 1;"
+            + "word letters 2 in 0 party 0 means 0 2;word letters 3 in 0 party 0 means 1;word letters 9 in 0 party 0 means 0;"
+            + "speaker in 0 votes 3 comes 0 needs 0;speaker in 0 votes 4 comes 0 needs 1;speaker in 0 votes 2 comes 0 needs 2;");
+        DUE.is("first: sits(0, 0)", 1, first.sits(0, 0));
+        DUE.is("first: feint(0)", 0, first.feint(0));
+        DUE.is("first: gains(0)", 1, first.gains(0));
+        DUE.is("first: restless()", 1, first.restless());
     }
 
     private static void withoutChamber() {
