@@ -1021,27 +1021,19 @@ public final class WordSeats {
             if (from >= tape.length) {
                 kind = THE_END;
             } else if (isLetter(tape.at(from))) {
-                passName();
+                kind = NAME;
+                while (past < tape.length && isLetter(tape.at(past))) {
+                    past++;
+                }
             } else if (isDigit(tape.at(from))) {
-                passNumber();
+                kind = NUMBER;
+                value = 0;
+                while (past < tape.length && isDigit(tape.at(past))) {
+                    value = Math.min(HUGE, 10 * value + tape.at(past) - '0');
+                    past++;
+                }
             } else {
                 kind = tape.at(from) == ';' ? CLOSE : STRANGE;
-                past++;
-            }
-        }
-
-        private void passName() {
-            kind = NAME;
-            while (past < tape.length && isLetter(tape.at(past))) {
-                past++;
-            }
-        }
-
-        private void passNumber() {
-            kind = NUMBER;
-            value = 0;
-            while (past < tape.length && isDigit(tape.at(past))) {
-                value = Math.min(HUGE, 10 * value + tape.at(past) - '0');
                 past++;
             }
         }
@@ -1206,11 +1198,6 @@ public final class WordSeats {
             return Integer.bitCount(needs[speaker] & means[word]);
         }
 
-        /** Among like WORDS the longer, then the lesser number has more of it; always 1 and above. */
-        int stature(int word) {
-            return hasWord(word) ? letters[word] * 16 + 15 - word : 0;
-        }
-
         /** Whether a set of WORDS could SIT: none of them dead, no two of one DISTRICT. */
         boolean canSit(int set) {
             if ((set & terms.dead) != 0) {
@@ -1329,7 +1316,9 @@ public final class WordSeats {
         static final int STRIKE = 2;
         static final int APPROVE = 3;
 
-        private static final int LIKED_ONCE = 256;
+        /** One letter more weighs above all numbers of WORDS, LIKED once more above all letters. */
+        private static final int LETTER = 16;
+        private static final int LIKED_ONCE = 16 * LETTER;
         private static final int AHEAD_OF_ALL = 16 * LIKED_ONCE;
 
         private final Chamber chamber;
@@ -1369,7 +1358,8 @@ public final class WordSeats {
             for (int word = 0; word < chamber.words; word++) {
                 if (holds(standing, word)) {
                     int liked = chamber.liking(speaker, word);
-                    zeal[speaker * MOST_WORDS + word] = liked == 0 ? 0 : liked * LIKED_ONCE + chamber.stature(word);
+                    int among = LETTER * chamber.letters[word] + MOST_WORDS - word;
+                    zeal[speaker * MOST_WORDS + word] = liked == 0 ? 0 : LIKED_ONCE * liked + among;
                 }
             }
         }
@@ -1486,7 +1476,10 @@ public final class WordSeats {
             if (tally[word] != tally[other]) {
                 return tally[word] > tally[other];
             }
-            return chamber.stature(word) > chamber.stature(other);
+            if (chamber.letters[word] != chamber.letters[other]) {
+                return chamber.letters[word] > chamber.letters[other];
+            }
+            return word < other;
         }
 
         /** Who SITS by the election just held. */
