@@ -1,218 +1,458 @@
-/** Promises 44 to 51: parties' power, coalitions, lists, districts drawn for a party. */
+/** Term VI and promises 44 to 51: parties' power, coalitions, lists, districts drawn for a party. */
 final class PartyTest {
-    private static final Due DUE = new Due();
-
-    /** Seats 4, 3, 2, 1 and votes 40, 30, 20, 10 for parties 0 to 3. */
-    private static final String FOUR = """
-        chamber meanings 1 law first bar 0 dies 9;
-        district seats 4; district seats 3; district seats 2; district seats 1;
-        word letters 3 in 0 party 0 means 0; word letters 3 in 1 party 1 means 0;
-        word letters 3 in 2 party 2 means 0; word letters 3 in 3 party 3 means 0;
-        speaker in 0 votes 40 comes 0 needs 0; speaker in 1 votes 30 comes 0 needs 0;
-        speaker in 2 votes 20 comes 0 needs 0; speaker in 3 votes 10 comes 0 needs 0;
-        """;
-
-    /** Meaning 0 is party 0's, meaning 1 party 1's. */
-    private static final String TWO = """
-        chamber meanings 2 law first bar 0 dies 9;
-        district seats 1; district seats 1;
-        word letters 3 in 0 party 0 means 0; word letters 3 in 0 party 1 means 1;
-        word letters 3 in 1 party 0 means 0; word letters 3 in 1 party 1 means 1;
-        speaker in 0 votes 5 comes 0 needs 0; speaker in 0 votes 5 comes 0 needs 0;
-        speaker in 1 votes 4 comes 0 needs 1; speaker in 1 votes 11 comes 0 needs 1;
-        """;
+    private static final int FAR = Integer.MAX_VALUE;
+    private static final int FAR_BELOW = Integer.MIN_VALUE;
 
     public static void main(String[] args) {
-        power();
-        nobodySits();
-        severalSeats();
-        lists();
-        rigged();
-        notRigged();
-        withoutChamber();
-        DUE.close();
+        Suite.run(PartyTest.class);
     }
 
-    private static void power() {
-        WordSeats x = Due.chamber(FOUR);
+    /** One word for each of four districts, of parties 0 to 3, with 40, 30, 20 and 10 votes. */
+    private static Town four(int... seats) {
+        Town town = Town.of(1);
+        for (int district = 0; district < 4; district++) {
+            town.district(seats[district]);
+        }
+        for (int district = 0; district < 4; district++) {
+            town.word(3, district, district, 0).speaker(district, 40 - 10 * district, 0);
+        }
+        return town;
+    }
+
+    private static WordSeats seated(Town town) {
+        WordSeats x = town.open();
         x.term();
-        int[] above = {5, 1, 1, 1};
-        int[] below = {12, 4, 4, 12};
-        for (int party = 0; party < 4; party++) {
-            DUE.is("seats(" + party + ")", 4 - party, x.seats(party));
-            DUE.is("share(" + party + ", 0)", above[party], x.share(party, 0));
-            DUE.is("share(" + party + ", 1)", below[party], x.share(party, 1));
-        }
-        int[] majority = {0, 0, 0, 1, 0, 1, 0, 1, 0, 0, 0, 1, 0, 1, 1, 1, -2};
-        int[] breaks = {0, 0, 0, 3, 0, 5, 0, 1, 0, 0, 0, 3, 0, 5, 14, 0, -2};
-        for (int set = 0; set <= 16; set++) {
-            DUE.is("majority(" + set + ")", majority[set], x.majority(set));
-            DUE.is("breaks(" + set + ")", breaks[set], x.breaks(set));
-        }
-        DUE.is("coalition()", 3, x.coalition());
-        DUE.is("seats(4)", -2, x.seats(4));
-        DUE.is("seats(-1)", -2, x.seats(-1));
-        DUE.is("majority(-1)", -2, x.majority(-1));
-        DUE.is("breaks(-1)", -2, x.breaks(-1));
-        DUE.is("share(4, 0)", -2, x.share(4, 0));
-        DUE.is("share(-1, 0)", -2, x.share(-1, 0));
-        DUE.is("share(0, 2)", -2, x.share(0, 2));
-        DUE.is("share(0, -1)", -2, x.share(0, -1));
+        return x;
     }
 
-    private static void nobodySits() {
-        WordSeats x = Due.chamber(FOUR);
-        DUE.is("nobody: seats(0)", 0, x.seats(0));
-        DUE.is("nobody: majority(15)", 0, x.majority(15));
-        DUE.is("nobody: share(0, 0)", 0, x.share(0, 0));
-        DUE.is("nobody: share(0, 1)", 1, x.share(0, 1));
-        DUE.is("nobody: coalition()", -1, x.coalition());
-        DUE.is("nobody: breaks(15)", 0, x.breaks(15));
-        WordSeats bare = Due.chamber("chamber meanings 1 law first bar 0 dies 1;");
-        DUE.is("bare: majority(15)", 0, bare.majority(15));
-        DUE.is("bare: coalition()", -1, bare.coalition());
-        DUE.is("bare: lists(5, 0)", 0, bare.lists(5, 0));
+    /** Meaning 0 is party 0's, meaning 1 party 1's, in both districts. */
+    private static Town two() {
+        return Town.of(2).district(1).district(1).word(3, 0, 0, 0).word(3, 0, 1, 1).word(3, 1, 0, 0).word(3, 1, 1, 1)
+            .speaker(0, 5, 0).speaker(0, 5, 0).speaker(1, 4, 1).speaker(1, 11, 1);
     }
 
-    /** Seats without who sits count for the majority too: 4 and 1 of 10 are just half. */
-    private static void severalSeats() {
-        WordSeats x = Due.chamber(FOUR);
+    private static WordSeats bare() {
+        return Town.of(1).open();
+    }
+
+    private static void put(Due due, WordSeats x, int party, int most, int... row) {
+        due.is("rigged(" + party + ")", most, x.rigged(party));
+        due.row("put(" + party + ", ", row, speaker -> x.put(party, speaker));
+    }
+
+    // Term VI
+
+    @Says("PARTIES 0 .. 3 have the seats of DISTRICTS whose SITTING WORD is of theirs.")
+    static void termVI_seatsOfDistrictsOfTheirSittingWords(Due due) {
+        WordSeats x = seated(four(4, 3, 2, 1));
+        due.row("seats(", Due.ints(4, 3, 2, 1, -2), x::seats);
+        WordSeats one = seated(Town.of(1).district(2).district(9).word(1, 0, 3, 0).word(1, 1, 3, 0).word(9, 1, 2, 0)
+            .speaker(0, 1, 0).speaker(1, 1, 0));
+        due.row("word 1 does not sit: seats(", Due.ints(0, 0, 9, 2), one::seats);
+    }
+
+    @Says("MAJORITY: more than half")
+    static void termVI_majorityIsMoreThanHalf(Due due) {
+        WordSeats x = seated(four(4, 3, 2, 1));
+        due.is("5 of 10: majority(9)", 0, x.majority(9));
+        due.is("5 of 10: majority(6)", 0, x.majority(6));
+        due.is("6 of 10: majority(5)", 1, x.majority(5));
+        WordSeats odd = seated(four(4, 3, 1, 1));
+        due.is("5 of 9: majority(9)", 1, odd.majority(9));
+        due.is("4 of 9: majority(1)", 0, odd.majority(1));
+    }
+
+    /** In district 1 nobody stands; its 3 seats count all the same. */
+    @Says("of the seats of all DISTRICTS.")
+    static void termVI_majorityIsOfTheSeatsOfAllDistricts(Due due) {
+        WordSeats x = four(4, 3, 2, 1).open();
         x.stand(1, 0);
-        x.stand(3, 2);
-        x.stand(2, 3);
         x.term();
-        // Words 0 and 1 are of district 0 alike, 3 sits in 2, 2 in 3, nobody in 1.
-        DUE.is("several: sitting()", 13, x.sitting());
-        DUE.is("several: seats(0)", 4, x.seats(0));
-        DUE.is("several: seats(1)", 0, x.seats(1));
-        DUE.is("several: seats(2)", 1, x.seats(2));
-        DUE.is("several: seats(3)", 2, x.seats(3));
-        DUE.is("several, just half: majority(5)", 0, x.majority(5));
-        DUE.is("several: majority(9)", 1, x.majority(9));
-        DUE.is("several: coalition()", 9, x.coalition());
-        DUE.is("several: share(0, 0)", 1, x.share(0, 0));
-        DUE.is("several: share(0, 1)", 2, x.share(0, 1));
-        DUE.is("several: share(2, 0)", 0, x.share(2, 0));
-        DUE.is("several: share(2, 1)", 1, x.share(2, 1));
-        WordSeats one = Due.chamber("chamber meanings 1 law first bar 0 dies 1;district seats 2;district seats 9;"
-            + "word letters 1 in 0 party 3 means 0;word letters 1 in 1 party 3 means 0;"
-            + "speaker in 0 votes 1 comes 0 needs 0;speaker in 1 votes 1 comes 0 needs 0;");
-        one.term();
-        DUE.is("one: seats(3)", 11, one.seats(3));
-        DUE.is("one: share(3, 0)", 1, one.share(3, 0));
-        DUE.is("one: share(3, 1)", 1, one.share(3, 1));
-        DUE.is("one: coalition()", 8, one.coalition());
-        DUE.is("one: breaks(15)", 8, one.breaks(15));
-        // 4 of 7 are more than half.
-        WordSeats laws = Due.chamber(Texts.LAWS);
-        laws.bill(0, 3);
-        laws.term();
-        DUE.is("laws: seats(3)", 4, laws.seats(3));
-        DUE.is("laws: majority(8)", 1, laws.majority(8));
-        DUE.is("laws: majority(7)", 0, laws.majority(7));
-        // Seats 4, 1, 1, 4: three parties come first by their bits, but two are fewer.
-        WordSeats fewer = Due.chamber(FOUR.replace("seats 1", "seats 4 ").replace("seats 3", "seats 1").replace("seats 2", "seats 1"));
-        fewer.term();
-        DUE.is("fewer: seats(3)", 4, fewer.seats(3));
-        DUE.is("fewer: majority(7)", 1, fewer.majority(7));
-        DUE.is("fewer: coalition()", 9, fewer.coalition());
+        due.is("sitting()", 13, x.sitting());
+        due.row("seats(", Due.ints(4, 0, 2, 1), x::seats);
+        due.is("4 of 10: majority(1)", 0, x.majority(1));
+        due.is("5 of 10: majority(9)", 0, x.majority(9));
+        due.is("6 of 10: majority(5)", 1, x.majority(5));
     }
 
-    private static void lists() {
-        WordSeats x = Due.chamber(FOUR);
-        int[][] due = {{0, 0, 0, 0}, {1, 0, 0, 0}, {1, 1, 0, 0}, {2, 1, 0, 0}, {2, 1, 1, 0}, {2, 2, 1, 0},
+    /** Of 24 orders 10 are party 0's, 6 party 1's and 2's each, 2 party 3's. */
+    @Says("SHARE: of all orders in which PARTIES may come, alike likely, the part in which it makes the MAJORITY.")
+    static void termVI_shareOfOrders(Due due) {
+        WordSeats x = seated(four(4, 3, 2, 1));
+        due.row("share(p, 0), p ", Due.ints(5, 1, 1, 1), p -> x.share(p, 0));
+        due.row("share(p, 1), p ", Due.ints(12, 4, 4, 12), p -> x.share(p, 1));
+        WordSeats even = seated(four(2, 2, 2, 2));
+        due.row("even: share(p, 0), p ", Due.ints(1, 1, 1, 1), p -> even.share(p, 0));
+        due.row("even: share(p, 1), p ", Due.ints(4, 4, 4, 4), p -> even.share(p, 1));
+        // Party 0 has none of its own by itself, and none comes about without it.
+        WordSeats veto = seated(four(5, 3, 1, 1));
+        due.row("5 of 10: share(p, 0), p ", Due.ints(3, 1, 1, 1), p -> veto.share(p, 0));
+        due.row("5 of 10: share(p, 1), p ", Due.ints(4, 12, 12, 12), p -> veto.share(p, 1));
+    }
+
+    @Says("FRACTIONS are told in lowest terms")
+    static void termVI_fractionsInLowestTerms(Due due) {
+        WordSeats all = seated(four(9, 1, 1, 1));
+        due.is("24 of 24: share(0, 0)", 1, all.share(0, 0));
+        due.is("24 of 24: share(0, 1)", 1, all.share(0, 1));
+        WordSeats half = seated(four(3, 1, 1, 1));
+        due.is("18 of 24: share(0, 0)", 3, half.share(0, 0));
+        due.is("18 of 24: share(0, 1)", 4, half.share(0, 1));
+        due.is("2 of 24: share(1, 0)", 1, half.share(1, 0));
+        due.is("2 of 24: share(1, 1)", 12, half.share(1, 1));
+        WordSeats third = seated(four(2, 2, 1, 1));
+        due.is("8 of 24: share(0, 0)", 1, third.share(0, 0));
+        due.is("8 of 24: share(0, 1)", 3, third.share(0, 1));
+        due.is("4 of 24: share(2, 0)", 1, third.share(2, 0));
+        due.is("4 of 24: share(2, 1)", 6, third.share(2, 1));
+    }
+
+    @Says("(0 / 1).")
+    static void termVI_nothingIs0By1(Due due) {
+        WordSeats x = four(4, 3, 2, 1).open();
+        due.row("nobody sits: share(p, 0), p ", Due.ints(0, 0, 0, 0), p -> x.share(p, 0));
+        due.row("nobody sits: share(p, 1), p ", Due.ints(1, 1, 1, 1), p -> x.share(p, 1));
+        WordSeats all = seated(four(9, 1, 1, 1));
+        due.is("of no weight: share(3, 0)", 0, all.share(3, 0));
+        due.is("of no weight: share(3, 1)", 1, all.share(3, 1));
+    }
+
+    // promises 44 to 48
+
+    @Says("Seats (VI) of a PARTY.")
+    static void promise44_seats(Due due) {
+        WordSeats x = four(9, 8, 7, 6).open();
+        due.row("nobody sits: seats(", new int[4], x::seats);
+        x.term();
+        due.row("seats(", Due.ints(9, 8, 7, 6), x::seats);
+        x.undo();
+        due.row("taken back: seats(", new int[4], x::seats);
+    }
+
+    @Says("-2: there is none such,")
+    static void promise44_noneSuch(Due due) {
+        due.all("seats(", -2, seated(four(4, 3, 2, 1))::seats, -1, 4, FAR, FAR_BELOW);
+    }
+
+    @Says("no CHAMBER.")
+    static void promise44_noChamber(Due due) {
+        due.all("seats(", -2, new WordSeats()::seats, -1, 0, 3);
+        due.is("no districts: seats(0)", 0, bare().seats(0));
+    }
+
+    @Says("Whether a set of PARTIES (bits) has the MAJORITY: 1, 0.")
+    static void promise45_whetherASetHasIt(Due due) {
+        WordSeats x = seated(four(4, 3, 2, 1));
+        due.row("majority(", Due.ints(0, 0, 0, 1, 0, 1, 0, 1, 0, 0, 0, 1, 0, 1, 1, 1), x::majority);
+        due.is("nobody sits: majority(15)", 0, four(4, 3, 2, 1).open().majority(15));
+        due.is("no districts: majority(15)", 0, bare().majority(15));
+    }
+
+    @Says("-2: there is no such set,")
+    static void promise45_noSuchSet(Due due) {
+        due.all("majority(", -2, seated(four(4, 3, 2, 1))::majority, -1, 16, 17, FAR, FAR_BELOW);
+    }
+
+    @Says("no CHAMBER.")
+    static void promise45_noChamber(Due due) {
+        due.all("majority(", -2, new WordSeats()::majority, -1, 0, 15);
+    }
+
+    @Says("SHARE of a PARTY, above (what 0), below (1).")
+    static void promise46_aboveAndBelow(Due due) {
+        WordSeats x = seated(four(4, 3, 2, 1));
+        due.row("share(0, ", Due.ints(5, 12), what -> x.share(0, what));
+        due.row("share(3, ", Due.ints(1, 12), what -> x.share(3, what));
+    }
+
+    @Says("-2: there are none such,")
+    static void promise46_noneSuch(Due due) {
+        WordSeats x = seated(four(4, 3, 2, 1));
+        due.all("share(0, ", -2, what -> x.share(0, what), -1, 2, FAR, FAR_BELOW);
+        due.all("share(p, 0), p ", -2, p -> x.share(p, 0), -1, 4, FAR, FAR_BELOW);
+        due.all("share(p, 1), p ", -2, p -> x.share(p, 1), -1, 4, FAR, FAR_BELOW);
+    }
+
+    @Says("no CHAMBER.")
+    static void promise46_noChamber(Due due) {
+        due.row("share(0, ", Due.ints(-2, -2), what -> new WordSeats().share(0, what));
+    }
+
+    @Says("The least set (fewest PARTIES,")
+    static void promise47_fewestParties(Due due) {
+        due.is("6 of 10: coalition()", 3, seated(four(4, 3, 2, 1)).coalition());
+        due.is("one alone: coalition()", 8, seated(four(1, 1, 1, 9)).coalition());
+        // Parties 0, 1 and 2 have 6 of 10 too, and come first by their bits.
+        WordSeats x = seated(four(4, 1, 1, 4));
+        due.is("majority(7)", 1, x.majority(7));
+        due.is("two are fewer: coalition()", 9, x.coalition());
+        due.is("three of four: coalition()", 7, seated(four(1, 1, 1, 1)).coalition());
+        WordSeats all = four(1, 1, 1, 9).open();
+        all.stand(3, 0);
+        all.term();
+        due.is("none of 3 of 12: coalition()", -1, all.coalition());
+    }
+
+    @Says("then least bits) that has the MAJORITY.")
+    static void promise47_leastBits(Due due) {
+        due.is("parties 1 and 2, 1 and 3, 2 and 3: coalition()", 6, seated(four(1, 3, 3, 3)).coalition());
+        due.is("any two but 2 and 3: coalition()", 3, seated(four(3, 3, 2, 2)).coalition());
+    }
+
+    @Says("NONE: none has;")
+    static void promise47_noneHas(Due due) {
+        due.is("nobody sits: coalition()", -1, four(4, 3, 2, 1).open().coalition());
+        due.is("no districts: coalition()", -1, bare().coalition());
+    }
+
+    @Says("-2: there is no CHAMBER.")
+    static void promise47_noChamber(Due due) {
+        due.is("coalition()", -2, new WordSeats().coalition());
+    }
+
+    @Says("PARTIES of a set without each of which alone it has no MAJORITY, as bits")
+    static void promise48_withoutEachOfWhich(Due due) {
+        WordSeats x = seated(four(4, 3, 2, 1));
+        due.row("breaks(", Due.ints(0, 0, 0, 3, 0, 5, 0, 1, 0, 0, 0, 3, 0, 5, 14, 0), x::breaks);
+        due.is("one has it all: breaks(15)", 1, seated(four(9, 1, 1, 1)).breaks(15));
+    }
+
+    @Says("(0: it has none).")
+    static void promise48_itHasNone(Due due) {
+        WordSeats x = seated(four(4, 3, 2, 1));
+        due.all("breaks(", 0, x::breaks, 0, 1, 2, 4, 6, 8, 9, 10, 12);
+        due.is("nobody sits: breaks(15)", 0, four(4, 3, 2, 1).open().breaks(15));
+    }
+
+    @Says("-2: there is no such set,")
+    static void promise48_noSuchSet(Due due) {
+        due.all("breaks(", -2, seated(four(4, 3, 2, 1))::breaks, -1, 16, 17, FAR, FAR_BELOW);
+    }
+
+    @Says("no CHAMBER.")
+    static void promise48_noChamber(Due due) {
+        due.all("breaks(", -2, new WordSeats()::breaks, -1, 0, 15);
+    }
+
+    // promise 49
+
+    @Says("LISTS: n (0 .. 20) seats, one by one,")
+    static void promise49_seatsOneByOne(Due due) {
+        WordSeats x = four(1, 1, 1, 1).open();
+        int[][] lists = {{0, 0, 0, 0}, {1, 0, 0, 0}, {1, 1, 0, 0}, {2, 1, 0, 0}, {2, 1, 1, 0}, {2, 2, 1, 0},
             {3, 2, 1, 0}, {4, 2, 1, 0}, {4, 3, 1, 0}, {4, 3, 2, 0}, {4, 3, 2, 1}};
-        for (int n = 0; n < due.length; n++) {
+        for (int n = 0; n < lists.length; n++) {
+            int seats = n;
+            due.row("lists(" + n + ", ", lists[n], p -> x.lists(seats, p));
+        }
+        due.row("lists(20, ", Due.ints(8, 6, 4, 2), p -> x.lists(20, p));
+    }
+
+    /** Party 0 has 5 and 5 first votes in two districts, of three words; party 1 has 15 by one. */
+    @Says("to the PARTY with the greatest first votes of all its WORDS")
+    static void promise49_firstVotesOfAllItsWords(Due due) {
+        WordSeats x = Town.of(3).district(1).district(1).word(3, 0, 0, 0).word(3, 1, 0, 0).word(9, 1, 0, 2).word(3, 1, 1, 1)
+            .speaker(0, 5, 0).speaker(1, 5, 2).speaker(1, 15, 1).open();
+        due.row("15, 10, 7 and a half, 5: lists(1, ", Due.ints(0, 1), p -> x.lists(1, p));
+        due.row("lists(2, ", Due.ints(1, 1), p -> x.lists(2, p));
+        due.row("lists(3, ", Due.ints(1, 2), p -> x.lists(3, p));
+        due.row("lists(5, ", Due.ints(2, 3), p -> x.lists(5, p));
+        x.bill(0, 3);
+        x.bill(1, 100);
+        due.row("whatever the law: lists(5, ", Due.ints(2, 3), p -> x.lists(5, p));
+    }
+
+    @Says("by its seats and one")
+    static void promise49_byItsSeatsAndOne(Due due) {
+        WordSeats x = Town.of(2).district(1).word(3, 0, 1, 0).word(3, 0, 2, 1).speaker(0, 99, 0).speaker(0, 34, 1).open();
+        // 99, 49 and a half, 34, 33.
+        due.row("lists(1, ", Due.ints(0, 1, 0), p -> x.lists(1, p));
+        due.row("lists(2, ", Due.ints(0, 2, 0), p -> x.lists(2, p));
+        due.row("lists(3, ", Due.ints(0, 2, 1), p -> x.lists(3, p));
+        due.row("lists(4, ", Due.ints(0, 3, 1), p -> x.lists(4, p));
+    }
+
+    @Says("(of like ones the lesser):")
+    static void promise49_ofLikeOnesTheLesser(Due due) {
+        WordSeats x = Town.of(2).district(1).word(3, 0, 3, 0).word(9, 0, 2, 1).speaker(0, 10, 0).speaker(0, 10, 1).open();
+        due.row("10 and 10: lists(1, ", Due.ints(0, 0, 1, 0), p -> x.lists(1, p));
+        due.row("10 and 10: lists(2, ", Due.ints(0, 0, 1, 1), p -> x.lists(2, p));
+        due.row("10 and 10: lists(3, ", Due.ints(0, 0, 2, 1), p -> x.lists(3, p));
+        // 20 for two is as much as 10 for one.
+        WordSeats half = Town.of(2).district(1).word(3, 0, 1, 0).word(9, 0, 3, 1).speaker(0, 10, 0).speaker(0, 20, 1).open();
+        due.row("20 and 10: lists(2, ", Due.ints(0, 1, 0, 1), p -> half.lists(2, p));
+    }
+
+    @Says("how many a PARTY has then.")
+    static void promise49_howManyAPartyHas(Due due) {
+        WordSeats x = four(1, 1, 1, 1).open();
+        for (int n = 0; n <= 20; n++) {
+            int sum = 0;
             for (int party = 0; party < 4; party++) {
-                DUE.is("lists(" + n + ", " + party + ")", due[n][party], x.lists(n, party));
+                sum += x.lists(n, party);
             }
+            due.is("of all parties, lists(" + n + ", ..)", n, sum);
         }
-        DUE.is("lists(20, 0)", 8, x.lists(20, 0));
-        DUE.is("lists(21, 0)", -2, x.lists(21, 0));
-        DUE.is("lists(-1, 0)", -2, x.lists(-1, 0));
-        DUE.is("lists(1, 4)", -2, x.lists(1, 4));
-        DUE.is("lists(1, -1)", -2, x.lists(1, -1));
-        // Party 0 has 5 and 5 first votes in one district, party 1 has 15 in another.
-        WordSeats two = Due.chamber(TWO);
-        DUE.is("two: lists(5, 0)", 2, two.lists(5, 0));
-        DUE.is("two: lists(5, 1)", 3, two.lists(5, 1));
-        WordSeats mute = Due.chamber("chamber meanings 2 law first bar 0 dies 1;district seats 1;"
-            + "word letters 1 in 0 party 0 means 0;speaker in 0 votes 9 comes 0 needs 1;");
-        DUE.is("no votes: lists(20, 0)", 0, mute.lists(20, 0));
     }
 
-    private static void rigged() {
-        WordSeats x = Due.chamber(TWO);
-        put(x, 0, 1, new int[] {0, 0, 0, 1});
-        put(x, 1, 2, new int[] {0, 0, 1, 0});
-        put(x, 2, 0, new int[] {0, 0, 0, 1});
-        DUE.is("all as ever: speaker(2, 0)", 1, x.speaker(2, 0));
-        DUE.is("rigged(4)", -2, x.rigged(4));
-        DUE.is("rigged(-1)", -2, x.rigged(-1));
-        DUE.is("put(4, 0)", -2, x.put(4, 0));
-        DUE.is("put(-1, 0)", -2, x.put(-1, 0));
-        DUE.is("put(0, 4)", -2, x.put(0, 4));
-        DUE.is("put(0, -1)", -2, x.put(0, -1));
-        // By bar 60 party 1 has 11 of 21 no more; 11 of 16 are enough: 5 and 11, but then 5 and 4 are not.
+    @Says("0, if there are no votes;")
+    static void promise49_noVotes(Due due) {
+        WordSeats x = Town.of(2).district(1).word(1, 0, 0, 0).speaker(0, 9, 1).open();
+        due.row("lists(20, ", Due.ints(0, 0, 0, 0), p -> x.lists(20, p));
+        due.row("no words: lists(5, ", Due.ints(0, 0, 0, 0), p -> bare().lists(5, p));
+    }
+
+    @Says("-2: there are none such,")
+    static void promise49_noneSuch(Due due) {
+        WordSeats x = four(1, 1, 1, 1).open();
+        due.all("lists(n, 0), n ", -2, n -> x.lists(n, 0), -1, 21, FAR, FAR_BELOW);
+        due.all("lists(1, ", -2, p -> x.lists(1, p), -1, 4, FAR, FAR_BELOW);
+        due.all("lists(0, ", -2, p -> x.lists(0, p), -1, 4);
+    }
+
+    @Says("no CHAMBER.")
+    static void promise49_noChamber(Due due) {
+        due.is("lists(0, 0)", -2, new WordSeats().lists(0, 0));
+        due.is("lists(4, 1)", -2, new WordSeats().lists(4, 1));
+    }
+
+    // promises 50 and 51
+
+    @Says("DRAWN: each SPEAKER of the CHAMBER put to a DISTRICT anew")
+    static void promise50_eachSpeakerPutAnew(Due due) {
+        WordSeats x = two().open();
+        due.is("as all is, one each: seated", 1, Integer.bitCount(x.elected() & 10));
+        due.is("both by 11 against 10, 4 alone: rigged(1)", 2, x.rigged(1));
+        due.is("rigged(0)", 1, x.rigged(0));
+        due.row("all as ever: speaker(s, 0), s ", Due.ints(0, 0, 1, 1), s -> x.speaker(s, 0));
+        due.is("nothing happens: elected()", 9, x.elected());
+    }
+
+    /** Both speakers in district 0 would do as well, and come first; but then district 1 has none. */
+    @Says("(none without one),")
+    static void promise50_noneWithoutOne(Due due) {
+        WordSeats x = Town.of(2).district(1).district(1).word(1, 0, 0, 0).speaker(0, 1, 0).speaker(0, 1, 1).open();
+        put(due, x, 0, 1, 0, 1);
+        // Speakers 1 and 2 have 4 against 3; as one must go, it is speaker 0.
+        WordSeats three = Town.of(2).district(1).district(1).word(1, 0, 0, 0).word(2, 0, 1, 1)
+            .speaker(0, 3, 0).speaker(0, 2, 1).speaker(0, 2, 1).open();
+        put(due, three, 1, 1, 1, 0, 0);
+    }
+
+    @Says("WORDS stay:")
+    static void promise50_wordsStay(Due due) {
+        // Party 0 has one word, so that it can have one district at most, and only where that stands.
+        WordSeats x = Town.of(1).district(1).district(1).word(1, 1, 0, 0).speaker(0, 1, 0).speaker(0, 1, 0).speaker(0, 1, 0).open();
+        put(due, x, 0, 1, 0, 0, 1);
+        due.is("as ever: word(0, 1)", 1, x.word(0, 1));
+        due.is("no words: rigged(3)", 0, x.rigged(3));
+    }
+
+    /** Six speakers need meanings of party 0 (votes 3, 3, 3) and of party 1 (votes 2, 2, 4). */
+    @Says("in how many DISTRICTS WORDS of a PARTY can SIT at most")
+    static void promise50_inHowManyAtMost(Due due) {
+        WordSeats x = Town.of(2).district(1).district(1).district(1)
+            .word(3, 0, 0, 0).word(4, 0, 1, 1).word(3, 1, 0, 0).word(4, 1, 1, 1).word(3, 2, 0, 0).word(4, 2, 1, 1)
+            .speaker(0, 3, 0).speaker(0, 3, 0).speaker(0, 3, 0).speaker(0, 2, 1).speaker(0, 2, 1).speaker(0, 4, 1).open();
+        // Party 0: 6 against 2 and 2, 3 alone; the 4 takes the third.
+        put(due, x, 0, 2, 0, 0, 1, 0, 0, 2);
+        // Party 1: 8 votes are fewer than 9, so that it never has all three.
+        due.is("rigged(1)", 2, x.rigged(1));
+        due.is("rigged(2)", 0, x.rigged(2));
+    }
+
+    @Says("by the law.")
+    static void promise50_byTheLaw(Due due) {
+        WordSeats x = two().open();
         x.bill(1, 60);
-        put(x, 1, 1, new int[] {0, 0, 0, 1});
-        // Word 1 of party 0 stands in district 1 alone: there it needs speaker 0.
-        WordSeats last = Due.chamber("chamber meanings 2 law first bar 0 dies 1;district seats 1;district seats 1;"
-            + "word letters 1 in 0 party 1 means 0;word letters 1 in 1 party 0 means 0;"
-            + "speaker in 0 votes 1 comes 0 needs 0;speaker in 0 votes 1 comes 0 needs 1;");
-        put(last, 0, 1, new int[] {1, 0});
-        put(last, 1, 1, new int[] {0, 1});
-        // Four speakers for four districts: each row is a permutation, the first is the least.
-        WordSeats four = Due.chamber(FOUR);
-        put(four, 0, 1, new int[] {0, 1, 2, 3});
-        // Six speakers, who need meanings of party 0 (votes 3, 3, 3) and of party 1 (votes 2, 2, 4).
-        WordSeats six = Due.chamber("""
-            chamber meanings 2 law first bar 0 dies 9;
-            district seats 1; district seats 1; district seats 1;
-            word letters 3 in 0 party 0 means 0; word letters 4 in 0 party 1 means 1;
-            word letters 3 in 1 party 0 means 0; word letters 4 in 1 party 1 means 1;
-            word letters 3 in 2 party 0 means 0; word letters 4 in 2 party 1 means 1;
-            speaker in 0 votes 3 comes 0 needs 0; speaker in 0 votes 3 comes 0 needs 0; speaker in 0 votes 3 comes 0 needs 0;
-            speaker in 0 votes 2 comes 0 needs 1; speaker in 0 votes 2 comes 0 needs 1; speaker in 0 votes 4 comes 0 needs 1;
-            """);
-        // Party 0 loses to the 4 somewhere: 6 against 2 and 2, 3 alone, 4 alone.
-        put(six, 0, 2, new int[] {0, 0, 1, 0, 0, 2});
-        // Party 1: in three districts only the 4 is enough for a 3, so two.
-        DUE.is("six: rigged(1)", 2, six.rigged(1));
-    }
-
-    private static void put(WordSeats x, int party, int most, int[] row) {
-        DUE.is("rigged(" + party + ")", most, x.rigged(party));
-        for (int speaker = 0; speaker < row.length; speaker++) {
-            DUE.is("put(" + party + ", " + speaker + ")", row[speaker], x.put(party, speaker));
+        // 11 of 21 are below the bar, and so are 5 and 4 of any.
+        put(due, x, 1, 1, 0, 0, 0, 1);
+        // By first word 0 has 3 of 7 votes; by the other laws word 1 has 4.
+        WordSeats y = Town.of(3).district(1).word(5, 0, 0, 0).word(4, 0, 1, 1).word(3, 0, 1, 1, 2)
+            .speaker(0, 3, 0).speaker(0, 2, 1).speaker(0, 2, 1, 2).open();
+        int[] rigged = {0, 1, 1, 1};
+        for (int law = 0; law < 4; law++) {
+            y.bill(0, law);
+            due.is("law " + law + ": rigged(1)", rigged[law], y.rigged(1));
         }
     }
 
-    private static void notRigged() {
-        WordSeats seven = Due.chamber(Texts.LAWS);
-        DUE.is("seven speakers: rigged(0)", -1, seven.rigged(0));
-        DUE.is("seven speakers: put(0, 6)", -1, seven.put(0, 6));
-        DUE.is("seven speakers: put(0, 7)", -2, seven.put(0, 7));
-        DUE.is("seven speakers: rigged(4)", -2, seven.rigged(4));
-        WordSeats few = Due.chamber("chamber meanings 1 law first bar 0 dies 1;district seats 1;district seats 1;"
-            + "speaker in 0 votes 1 comes 1 needs 0;");
-        DUE.is("few: rigged(0)", -1, few.rigged(0));
-        DUE.is("few: put(0, 0)", -1, few.put(0, 0));
-        DUE.is("few: put(0, 1)", -2, few.put(0, 1));
-        WordSeats bare = Due.chamber("chamber meanings 1 law first bar 0 dies 1;");
-        DUE.is("bare: rigged(0)", -2, bare.rigged(0));
-        DUE.is("bare: put(0, 0)", -2, bare.put(0, 0));
+    @Says("NONE: there are fewer SPEAKERS than DISTRICTS,")
+    static void promise50_fewerSpeakersThanDistricts(Due due) {
+        WordSeats x = Town.of(1).district(1).district(1).word(1, 0, 0, 0).speaker(0, 1, 0).open();
+        due.is("1 and 2: rigged(0)", -1, x.rigged(0));
+        WordSeats none = Town.of(1).district(1).open();
+        due.is("0 and 1: rigged(0)", -1, none.rigged(0));
+        WordSeats even = four(1, 1, 1, 1).open();
+        due.is("4 and 4: rigged(0)", 1, even.rigged(0));
     }
 
-    private static void withoutChamber() {
-        WordSeats x = new WordSeats();
-        DUE.is("none: seats(0)", -2, x.seats(0));
-        DUE.is("none: majority(0)", -2, x.majority(0));
-        DUE.is("none: share(0, 0)", -2, x.share(0, 0));
-        DUE.is("none: coalition()", -2, x.coalition());
-        DUE.is("none: breaks(0)", -2, x.breaks(0));
-        DUE.is("none: lists(0, 0)", -2, x.lists(0, 0));
-        DUE.is("none: rigged(0)", -2, x.rigged(0));
-        DUE.is("none: put(0, 0)", -2, x.put(0, 0));
+    @Says("more than six SPEAKERS;")
+    static void promise50_moreThanSixSpeakers(Due due) {
+        Town town = Town.of(1).district(1).word(1, 0, 0, 0);
+        for (int i = 0; i < 6; i++) {
+            town.speaker(0, 1, 0);
+        }
+        due.is("six: rigged(0)", 1, town.open().rigged(0));
+        for (int speakers = 7; speakers <= 9; speakers++) {
+            town.speaker(0, 1, 0);
+            due.is(speakers + ": rigged(0)", -1, town.open().rigged(0));
+        }
+    }
+
+    @Says("-2: there is none such,")
+    static void promise50_noneSuch(Due due) {
+        due.all("rigged(", -2, two().open()::rigged, -1, 4, FAR, FAR_BELOW);
+        due.is("seven speakers: rigged(4)", -2, Due.chamber(Texts.LAWS).rigged(4));
+    }
+
+    @Says("no DISTRICT.")
+    static void promise50_noDistrict(Due due) {
+        due.is("bare: rigged(0)", -2, bare().rigged(0));
+        due.is("no chamber: rigged(0)", -2, new WordSeats().rigged(0));
+    }
+
+    @Says("The DISTRICT of a SPEAKER by the first such row")
+    static void promise51_byTheFirstRow(Due due) {
+        put(due, two().open(), 0, 1, 0, 0, 0, 1);
+        put(due, two().open(), 1, 2, 0, 0, 1, 0);
+        // Word 1 of party 0 stands in district 1 alone: there it needs speaker 0.
+        WordSeats last = Town.of(2).district(1).district(1).word(1, 0, 1, 0).word(1, 1, 0, 0).speaker(0, 1, 0).speaker(0, 1, 1).open();
+        put(due, last, 0, 1, 1, 0);
+        put(due, last, 1, 1, 0, 1);
+    }
+
+    @Says("(the least).")
+    static void promise51_theLeastRow(Due due) {
+        put(due, four(1, 1, 1, 1).open(), 0, 1, 0, 1, 2, 3);
+        // Nothing to be had: the least row of all that leave no district without.
+        put(due, two().open(), 2, 0, 0, 0, 0, 1);
+        Town town = Town.of(1).district(1).district(1).district(1);
+        for (int i = 0; i < 6; i++) {
+            town.speaker(2, 1, 0);
+        }
+        put(due, town.open(), 0, 0, 0, 0, 0, 0, 1, 2);
+    }
+
+    @Says("NONE,")
+    static void promise51_none(Due due) {
+        due.is("seven speakers: put(0, 6)", -1, Due.chamber(Texts.LAWS).put(0, 6));
+        WordSeats few = Town.of(1).district(1).district(1).speaker(0, 1, 0).open();
+        due.is("fewer than districts: put(0, 0)", -1, few.put(0, 0));
+    }
+
+    @Says("-2 likewise,")
+    static void promise51_noneSuchNoDistrict(Due due) {
+        WordSeats x = two().open();
+        due.all("put(p, 0), p ", -2, p -> x.put(p, 0), -1, 4, FAR, FAR_BELOW);
+        due.is("bare: put(0, 0)", -2, bare().put(0, 0));
+        due.is("no chamber: put(0, 0)", -2, new WordSeats().put(0, 0));
+    }
+
+    @Says("no such SPEAKER.")
+    static void promise51_noSuchSpeaker(Due due) {
+        WordSeats x = two().open();
+        due.all("put(0, ", -2, s -> x.put(0, s), -1, 4, 6, FAR, FAR_BELOW);
+        due.is("seven speakers: put(0, 7)", -2, Due.chamber(Texts.LAWS).put(0, 7));
     }
 }

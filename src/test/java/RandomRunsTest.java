@@ -5,7 +5,7 @@ final class RandomRunsTest {
     private static final int RUNS = 600;
     private static final int CALLS = 480;
 
-    private final Due due = new Due();
+    private final Due due = new Due("RandomRunsTest");
     private final Random random;
     private final int run;
     private WordSeats x = new WordSeats();

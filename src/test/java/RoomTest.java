@@ -8,7 +8,7 @@ import java.util.Set;
 
 /** All calls live in one room: an object is small, and no call makes another one. */
 final class RoomTest {
-    private static final Due DUE = new Due();
+    private static final Due DUE = new Due("RoomTest");
     private static final com.sun.management.ThreadMXBean THREADS =
         (com.sun.management.ThreadMXBean) ManagementFactory.getThreadMXBean();
 

@@ -17,7 +17,7 @@ import java.util.regex.Pattern;
 final class RulesTest {
     private static final Path SOURCE = Path.of("src/main/java/WordSeats.java");
     private static final Path DOCUMENT = Path.of("../shared/DOC.md");
-    private static final Due DUE = new Due();
+    private static final Due DUE = new Due("RulesTest");
 
     public static void main(String[] args) throws IOException {
         face();

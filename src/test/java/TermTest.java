@@ -1,188 +1,398 @@
-/** Promises 24 to 28: who sits, terms one by one, words that die, taken back. */
+/** Term IV and promises 24 to 28: who sits, terms one by one, words that die, taken back. */
 final class TermTest {
-    private static final Due DUE = new Due();
+    private static final int FAR = Integer.MAX_VALUE;
+    private static final int FAR_BELOW = Integer.MIN_VALUE;
 
     public static void main(String[] args) {
-        threeTermsAndDeath();
-        backAgain();
-        seasonsBeginAnew();
-        sixtyTerms();
-        lawsBetweenTerms();
-        nobodySits();
-        withoutChamber();
-        DUE.close();
+        Suite.run(TermTest.class);
     }
 
-    private static void threeTermsAndDeath() {
-        WordSeats x = Due.chamber(Texts.SPOILT);
-        DUE.is("sitting()", 0, x.sitting());
-        DUE.is("dies()", 3, x.dies());
-        DUE.is("led(0)", -1, x.led(0));
-        DUE.is("undo()", -5, x.undo());
-        DUE.is("term() 1", 1, x.term());
-        DUE.is("sitting()", 1, x.sitting());
-        DUE.is("word(0, 4)", 0, x.word(0, 4));
-        DUE.is("word(1, 4)", 1, x.word(1, 4));
-        DUE.is("dies()", 2, x.dies());
-        DUE.is("term() 2", 1, x.term());
-        DUE.is("word(3, 4)", 2, x.word(3, 4));
-        DUE.is("word(3, 5)", 0, x.word(3, 5));
-        DUE.is("dies()", 1, x.dies());
-        DUE.is("term() 3", 1, x.term());
-        DUE.is("count(8)", 3, x.count(8));
-        for (int word = 1; word < 4; word++) {
-            DUE.is("word(" + word + ", 4)", 3, x.word(word, 4));
-            DUE.is("word(" + word + ", 5)", 1, x.word(word, 5));
-            DUE.is("votes(" + word + ")", 0, x.votes(word));
-            DUE.is("spoils(" + word + ")", -2, x.spoils(word));
-            DUE.is("beats(0, " + word + ")", -2, x.beats(0, word));
-            DUE.is("beats(" + word + ", 0)", -2, x.beats(word, 0));
-        }
-        theDeadAreOut(x);
-        DUE.is("dies()", -1, x.dies());
-        DUE.is("led(0)", 1, x.led(0));
-        DUE.is("led(2)", 1, x.led(2));
-        DUE.is("led(3)", -1, x.led(3));
-        DUE.is("led(-1)", -1, x.led(-1));
-        DUE.is("term() 4", 1, x.term());
-        DUE.is("the dead have none: word(1, 4)", 0, x.word(1, 4));
-        DUE.is("and stay dead: word(1, 5)", 1, x.word(1, 5));
-    }
-
-    private static void theDeadAreOut(WordSeats x) {
-        DUE.is("district(0, 1)", 1, x.district(0, 1));
-        DUE.is("district(0, 2)", 18, x.district(0, 2));
-        DUE.is("abstains(0)", 12, x.abstains(0));
-        DUE.is("order(1, 0)", -1, x.order(1, 0));
-        DUE.is("likes(1, 1)", 1, x.likes(1, 1));
-        DUE.is("spoils(0)", -1, x.spoils(0));
-        DUE.is("spoilers()", 0, x.spoilers());
-        DUE.is("best(0)", 0, x.best(0));
-        DUE.is("wins(0, 3)", 0, x.wins(0, 3));
-        DUE.is("struck(0, 0)", -1, x.struck(0, 0));
-        DUE.is("cover(1)", 1, x.cover(1));
-        DUE.is("cover(2)", -1, x.cover(2));
-        DUE.is("housed()", 1, x.housed());
-        DUE.is("cheapest(0)", 0, x.cheapest(0));
-        DUE.is("feint(1)", -1, x.feint(1));
-        DUE.is("lists(3, 1)", 0, x.lists(3, 1));
-        DUE.is("lists(3, 0)", 3, x.lists(3, 0));
-        DUE.is("years(0, 1, 1)", 0, x.years(0, 1, 1));
-        DUE.is("rigged(1)", 0, x.rigged(1));
-        DUE.is("by(14), the dead too", 6 * 40 + 5 * (6 + 4) + 4 * 4 + 3 * (5 + 4), x.by(14));
-        x.row(0, 0, 0);
-        DUE.is("fits(0)", 2, x.fits(0));
-        DUE.is("sure(0, 1)", 1, x.sure(0, 1));
-    }
-
-    private static void backAgain() {
-        WordSeats x = Due.chamber(Texts.SPOILT);
-        for (int i = 0; i < 4; i++) {
+    private static WordSeats after(int terms, String text) {
+        WordSeats x = Due.chamber(text);
+        for (int i = 0; i < terms; i++) {
             x.term();
         }
-        DUE.is("undo()", 3, x.undo());
-        DUE.is("word(1, 4)", 3, x.word(1, 4));
-        DUE.is("word(1, 5)", 1, x.word(1, 5));
-        DUE.is("undo()", 2, x.undo());
-        DUE.is("word(1, 4)", 2, x.word(1, 4));
-        DUE.is("word(1, 5)", 0, x.word(1, 5));
-        DUE.is("votes(1)", 5, x.votes(1));
-        DUE.is("led(1)", 1, x.led(1));
-        DUE.is("led(2)", -1, x.led(2));
-        DUE.is("undo()", 1, x.undo());
-        DUE.is("undo()", 0, x.undo());
-        DUE.is("sitting()", 0, x.sitting());
-        DUE.is("word(1, 4)", 0, x.word(1, 4));
-        DUE.is("undo()", -5, x.undo());
+        return x;
     }
 
-    /** Who sits has no term out of season any more; what was changed between terms is not taken back with them. */
-    private static void seasonsBeginAnew() {
-        WordSeats x = Due.chamber(Texts.SPOILT);
-        x.term();
-        x.term();
-        DUE.is("need(0, 2)", 1, x.need(0, 2));
-        DUE.is("elected()", 2, x.elected());
-        DUE.is("dies()", 1, x.dies());
-        DUE.is("term()", 1, x.term());
-        DUE.is("sitting()", 2, x.sitting());
-        DUE.is("word(0, 4)", 1, x.word(0, 4));
-        DUE.is("word(1, 4)", 0, x.word(1, 4));
-        DUE.is("word(2, 4)", 3, x.word(2, 4));
-        DUE.is("word(1, 5)", 0, x.word(1, 5));
-        DUE.is("word(2, 5)", 1, x.word(2, 5));
-        DUE.is("led(1)", 1, x.led(1));
-        DUE.is("led(2)", 2, x.led(2));
-        DUE.is("dies()", 2, x.dies());
-        DUE.is("undo()", 2, x.undo());
-        DUE.is("sitting()", 1, x.sitting());
-        DUE.is("word(1, 4)", 2, x.word(1, 4));
-        DUE.is("word(0, 4)", 0, x.word(0, 4));
-        DUE.is("speaker(0, 3)", 2, x.speaker(0, 3));
+    /** Whichever of two words its one speaker needs sits. */
+    private static WordSeats swing(int dies) {
+        return Town.of(2).dies(dies).district(1).word(3, 0, 0, 0).word(3, 0, 0, 1).speaker(0, 1, 0).open();
     }
 
-    private static void sixtyTerms() {
-        WordSeats x = Due.chamber(Texts.LAWS);
-        for (int i = 0; i < 60; i++) {
-            DUE.is("term() " + i, 2, x.term());
+    // Term IV
+
+    @Says("TERM: an election by the law:")
+    static void termIV_anElectionByTheLaw(Due due) {
+        int[] sits = {9, 10, 10, 36};
+        for (int law = 0; law < 4; law++) {
+            WordSeats x = Due.chamber(Texts.LAWS);
+            x.bill(0, law);
+            x.term();
+            due.is("law " + law + ": sitting()", sits[law], x.sitting());
         }
-        DUE.is("term() 60", -5, x.term());
-        DUE.is("count(8)", 60, x.count(8));
-        DUE.is("led(59)", 9, x.led(59));
-        DUE.is("led(60)", -1, x.led(60));
-        DUE.is("undo()", 59, x.undo());
-        DUE.is("term()", 2, x.term());
-        DUE.is("term()", -5, x.term());
-        for (int i = 59; i >= 0; i--) {
-            DUE.is("undo()", i, x.undo());
-        }
-        DUE.is("undo()", -5, x.undo());
-        DUE.is("district(1, 1)", 248, x.district(1, 1));
+        WordSeats barred = Due.chamber(Texts.LAWS);
+        barred.bill(1, 40);
+        barred.term();
+        due.is("bar 40: sitting()", 1, barred.sitting());
     }
 
-    /** With more terms out of season than dies, a word dies by the next one, if it does not sit. */
-    private static void lawsBetweenTerms() {
-        WordSeats x = Due.chamber(Texts.SPOILT);
+    @Says("who SITS now is kept;")
+    static void termIV_whoSitsIsKept(Due due) {
+        WordSeats x = swing(9);
         x.term();
-        x.term();
-        DUE.is("bill(2, 1)", 3, x.bill(2, 1));
-        DUE.is("word(1, 5)", 0, x.word(1, 5));
-        DUE.is("dies()", 1, x.dies());
-        x.bill(0, 2);
-        DUE.is("term()", 1, x.term());
-        DUE.is("sitting()", 4, x.sitting());
-        DUE.is("word(0, 5)", 1, x.word(0, 5));
-        DUE.is("word(0, 4)", 1, x.word(0, 4));
-        DUE.is("word(1, 5)", 1, x.word(1, 5));
-        DUE.is("word(1, 4)", 3, x.word(1, 4));
-        DUE.is("word(2, 5)", 0, x.word(2, 5));
-        DUE.is("word(2, 4)", 0, x.word(2, 4));
-    }
-
-    private static void nobodySits() {
-        WordSeats x = Due.chamber(Texts.SPOILT);
+        x.need(0, 2);
+        due.is("would: elected()", 2, x.elected());
+        due.is("kept: sitting()", 1, x.sitting());
         x.bill(1, 100);
-        DUE.is("term()", 0, x.term());
-        DUE.is("sitting()", 0, x.sitting());
-        DUE.is("led(0)", 0, x.led(0));
-        DUE.is("word(0, 4)", 1, x.word(0, 4));
-        x.bill(1, 0);
-        DUE.is("elected()", 1, x.elected());
-        DUE.is("sitting()", 0, x.sitting());
-        WordSeats nine = Due.chamber("chamber meanings 1 law first bar 0 dies 9;district seats 1;word letters 1 in 0 party 0 means 0;");
-        DUE.is("nine: dies()", 9, nine.dies());
-        WordSeats bare = Due.chamber("chamber meanings 1 law first bar 0 dies 1;");
-        DUE.is("bare: dies()", -1, bare.dies());
-        DUE.is("bare: term()", 0, bare.term());
-        DUE.is("bare: count(8)", 1, bare.count(8));
+        x.bill(0, 3);
+        due.is("kept: sitting()", 1, x.sitting());
+        due.is("kept: led(0)", 1, x.led(0));
+        due.is("kept: said(0)", 3, x.said(0));
     }
 
-    private static void withoutChamber() {
+    @Says("WORDS that are not dead and do not SIT have one term more out of season,")
+    static void termIV_oneTermMoreOutOfSeason(Due due) {
+        WordSeats x = after(0, Texts.LAWS);
+        x.bill(2, 9);
+        for (int terms = 1; terms <= 8; terms++) {
+            x.term();
+            int t = terms;
+            due.row("word(w, 4), w ", Due.ints(0, t, t, 0, t, t, t, t), w -> x.word(w, 4));
+        }
+    }
+
+    @Says("others none;")
+    static void termIV_whoSitsHasNone(Due due) {
+        WordSeats x = swing(9);
+        x.term();
+        x.term();
+        due.is("word(1, 4)", 2, x.word(1, 4));
+        x.need(0, 2);
+        due.is("not yet: word(1, 4)", 2, x.word(1, 4));
+        x.term();
+        due.is("it sits: word(1, 4)", 0, x.word(1, 4));
+        due.is("word(0, 4)", 1, x.word(0, 4));
+        x.need(0, 1);
+        x.term();
+        due.is("from the first again: word(1, 4)", 1, x.word(1, 4));
+    }
+
+    @Says("others none;")
+    static void termIV_whoIsDeadHasNone(Due due) {
+        WordSeats x = after(3, Texts.SPOILT);
+        due.row("by the term it dies: word(w, 4), w ", Due.ints(0, 3, 3, 3), w -> x.word(w, 4));
+        x.term();
+        due.row("by the next: word(w, 4), w ", Due.ints(0, 0, 0, 0), w -> x.word(w, 4));
+        due.row("dead as ever: word(w, 5), w ", Due.ints(0, 1, 1, 1), w -> x.word(w, 5));
+    }
+
+    @Says("who has as many as dies,")
+    static void termIV_asManyAsDies(Due due) {
+        for (int dies = 1; dies <= 9; dies++) {
+            WordSeats x = swing(dies);
+            for (int terms = 1; terms < dies; terms++) {
+                x.term();
+                due.is("dies " + dies + ", term " + terms + ": word(1, 5)", 0, x.word(1, 5));
+            }
+            x.term();
+            due.is("dies " + dies + ": word(1, 5)", 1, x.word(1, 5));
+            due.is("dies " + dies + ", who sits: word(0, 5)", 0, x.word(0, 5));
+        }
+    }
+
+    @Says("or more,")
+    static void termIV_orMore(Due due) {
+        WordSeats x = after(0, Texts.SPOILT);
+        x.term();
+        x.term();
+        x.bill(2, 1);
+        due.row("not without a term: word(w, 5), w ", Due.ints(0, 0, 0, 0), w -> x.word(w, 5));
+        x.bill(0, 2);
+        x.term();
+        due.is("sitting()", 4, x.sitting());
+        due.row("word(w, 4), w ", Due.ints(1, 3, 0, 3), w -> x.word(w, 4));
+        due.row("word(w, 5), w ", Due.ints(1, 1, 0, 1), w -> x.word(w, 5));
+    }
+
+    @Says("is dead then.")
+    static void termIV_isDeadThen(Due due) {
+        WordSeats x = after(3, Texts.SPOILT);
+        due.is("district(0, 1)", 1, x.district(0, 1));
+        due.is("abstains(0)", 12, x.abstains(0));
+        due.is("order(1, 0)", -1, x.order(1, 0));
+        due.is("wins(0, 3)", 0, x.wins(0, 3));
+        due.is("struck(0, 0)", -1, x.struck(0, 0));
+        due.is("spoilers()", 0, x.spoilers());
+        due.is("feint(1)", -1, x.feint(1));
+        due.is("lists(3, 1)", 0, x.lists(3, 1));
+        due.is("lists(3, 0)", 3, x.lists(3, 0));
+        due.is("years(0, 1, 1)", 0, x.years(0, 1, 1));
+        due.is("rigged(1)", 0, x.rigged(1));
+        for (int speaker = 0; speaker < 4; speaker++) {
+            x.need(speaker, 2);
+        }
+        due.is("liked by all: elected()", 0, x.elected());
+        due.is("liked by all: term()", 0, x.term());
+    }
+
+    @Says("(Ahead of any TERM nobody sits;")
+    static void termIV_aheadOfAnyNobodySits(Due due) {
+        WordSeats x = after(0, Texts.LAWS);
+        due.is("sitting()", 0, x.sitting());
+        due.is("dumb()", 63, x.dumb());
+        due.is("seats(0)", 0, x.seats(0));
+        x.term();
+        x.undo();
+        due.is("taken back: sitting()", 0, x.sitting());
+        due.is("taken back: dumb()", 63, x.dumb());
+    }
+
+    @Says("SITTING: who does since the latest one.)")
+    static void termIV_sittingSinceTheLatest(Due due) {
+        WordSeats x = swing(9);
+        x.term();
+        due.is("sitting()", 1, x.sitting());
+        x.need(0, 2);
+        x.term();
+        due.is("sitting()", 2, x.sitting());
+        x.bill(1, 100);
+        x.need(0, 3);
+        x.term();
+        due.is("sitting()", 1, x.sitting());
+        due.is("said(1)", -1, x.said(1));
+        due.is("said(0)", 3, x.said(0));
+    }
+
+    // promises 24 to 26
+
+    @Says("SITTING, as bits.")
+    static void promise24_whoSits(Due due) {
+        WordSeats x = after(1, Texts.LAWS);
+        due.is("sitting()", 9, x.sitting());
+        x.bill(1, 100);
+        x.term();
+        due.is("nobody: sitting()", 0, x.sitting());
+    }
+
+    @Says("-2 likewise.")
+    static void promise24_noChamber(Due due) {
+        due.is("sitting()", -2, new WordSeats().sitting());
+        due.is("bare: sitting()", 0, Town.of(1).open().sitting());
+    }
+
+    @Says("TERM (IV): how many SIT.")
+    static void promise25_howManySit(Due due) {
+        WordSeats x = after(0, Texts.LAWS);
+        x.bill(2, 9);
+        due.is("term()", 2, x.term());
+        due.is("count(8)", 1, x.count(8));
+        x.bill(1, 40);
+        due.is("bar 40: term()", 1, x.term());
+        x.bill(1, 100);
+        due.is("bar 100: term()", 0, x.term());
+        due.is("count(8)", 3, x.count(8));
+        due.is("no districts: term()", 0, Town.of(1).open().term());
+    }
+
+    @Says("-5: there were 60;")
+    static void promise25_thereWere60(Due due) {
+        WordSeats x = after(0, Texts.LAWS);
+        for (int i = 1; i <= 60; i++) {
+            due.is("term() " + i, 2, x.term());
+        }
+        due.is("term() 61", -5, x.term());
+        due.is("count(8)", 60, x.count(8));
+        due.is("led(59)", 9, x.led(59));
+        due.is("led(60)", -1, x.led(60));
+        due.is("undo()", 59, x.undo());
+        due.is("term() 60 again", 2, x.term());
+        due.is("term() 61", -5, x.term());
+        for (int i = 59; i >= 0; i--) {
+            due.is("undo()", i, x.undo());
+        }
+        due.is("district(1, 1)", 248, x.district(1, 1));
+    }
+
+    /** Refused, a term changes nothing: word 1 has 60 terms of which none counts. */
+    @Says("-5: there were 60;")
+    static void promise25_refusedNothingHappens(Due due) {
+        WordSeats x = swing(9);
+        for (int i = 0; i < 60; i++) {
+            x.need(0, i < 53 ? 1 + i % 2 : 1);
+            x.term();
+        }
+        due.is("word(1, 4)", 8, x.word(1, 4));
+        due.is("term()", -5, x.term());
+        due.is("word(1, 4)", 8, x.word(1, 4));
+        due.is("word(1, 5)", 0, x.word(1, 5));
+        due.is("sitting()", 1, x.sitting());
+    }
+
+    @Says("-2: there is no CHAMBER.")
+    static void promise25_noChamber(Due due) {
         WordSeats x = new WordSeats();
-        DUE.is("none: sitting()", -2, x.sitting());
-        DUE.is("none: term()", -2, x.term());
-        DUE.is("none: undo()", -2, x.undo());
-        DUE.is("none: led(0)", -2, x.led(0));
-        DUE.is("none: dies()", -2, x.dies());
+        due.is("term()", -2, x.term());
+        due.is("count(8)", 0, x.count(8));
+    }
+
+    @Says("The latest TERM is taken back:")
+    static void promise26_theLatestIsTakenBack(Due due) {
+        WordSeats x = after(2, Texts.SPOILT);
+        x.need(0, 2);
+        x.term();
+        due.is("sitting()", 2, x.sitting());
+        due.row("word(w, 4), w ", Due.ints(1, 0, 3, 3), w -> x.word(w, 4));
+        due.row("word(w, 5), w ", Due.ints(0, 0, 1, 1), w -> x.word(w, 5));
+        x.undo();
+        due.is("taken back: sitting()", 1, x.sitting());
+        due.row("taken back: word(w, 4), w ", Due.ints(0, 2, 2, 2), w -> x.word(w, 4));
+        due.row("taken back: word(w, 5), w ", Due.ints(0, 0, 0, 0), w -> x.word(w, 5));
+        due.is("taken back: led(2)", -1, x.led(2));
+        due.is("as it was: led(1)", 1, x.led(1));
+        due.is("no part of it: speaker(0, 3)", 2, x.speaker(0, 3));
+    }
+
+    /** The dead have none by the term behind, and what they had is theirs again when that is taken back. */
+    @Says("The latest TERM is taken back:")
+    static void promise26_deathsAreTakenBackOneByOne(Due due) {
+        WordSeats x = after(4, Texts.SPOILT);
+        due.is("word(1, 4)", 0, x.word(1, 4));
+        x.undo();
+        due.is("word(1, 4)", 3, x.word(1, 4));
+        due.is("word(1, 5)", 1, x.word(1, 5));
+        x.undo();
+        due.is("word(1, 4)", 2, x.word(1, 4));
+        due.is("word(1, 5)", 0, x.word(1, 5));
+        due.is("votes(1)", 5, x.votes(1));
+        x.term();
+        due.is("held again: word(1, 5)", 1, x.word(1, 5));
+    }
+
+    @Says("how many there are.")
+    static void promise26_howManyThereAre(Due due) {
+        WordSeats x = after(3, Texts.LAWS);
+        due.is("undo()", 2, x.undo());
+        due.is("undo()", 1, x.undo());
+        due.is("count(8)", 1, x.count(8));
+        due.is("undo()", 0, x.undo());
+        due.is("sitting()", 0, x.sitting());
+    }
+
+    @Says("-5: there is none;")
+    static void promise26_thereIsNone(Due due) {
+        WordSeats x = after(0, Texts.LAWS);
+        due.is("undo()", -5, x.undo());
+        x.term();
+        x.undo();
+        due.is("all taken back: undo()", -5, x.undo());
+        due.is("count(8)", 0, x.count(8));
+        due.is("as it was: term()", 2, x.term());
+    }
+
+    @Says("-2 likewise.")
+    static void promise26_noChamber(Due due) {
+        due.is("undo()", -2, new WordSeats().undo());
+    }
+
+    // promises 27 and 28
+
+    @Says("Who sat by TERM i (from 0), as bits.")
+    static void promise27_whoSat(Due due) {
+        WordSeats x = after(0, Texts.LAWS);
+        x.bill(2, 9);
+        int[] laws = {0, 3, 1, 0};
+        for (int law : laws) {
+            x.bill(0, law);
+            x.term();
+        }
+        x.bill(1, 100);
+        x.term();
+        due.row("led(", Due.ints(9, 36, 10, 9, 0), x::led);
+        x.undo();
+        x.undo();
+        x.bill(1, 0);
+        x.bill(0, 3);
+        x.term();
+        due.row("another fourth: led(", Due.ints(9, 36, 10, 36, -1), x::led);
+    }
+
+    @Says("NONE: there is none such;")
+    static void promise27_noneSuch(Due due) {
+        WordSeats x = after(0, Texts.LAWS);
+        due.all("led(", -1, x::led, -1, 0, 1, 59, 60, FAR, FAR_BELOW);
+        x.term();
+        x.term();
+        due.all("led(", -1, x::led, -1, 2, 3, 59, 60, FAR, FAR_BELOW);
+        x.undo();
+        due.is("taken back: led(1)", -1, x.led(1));
+    }
+
+    @Says("-2 likewise.")
+    static void promise27_noChamber(Due due) {
+        due.all("led(", -2, new WordSeats()::led, -1, 0, 1, 60);
+    }
+
+    @Says("In how many TERMS more (1 .. 60),")
+    static void promise28_inHowManyTerms(Due due) {
+        for (int dies = 1; dies <= 9; dies++) {
+            WordSeats x = swing(dies);
+            for (int more = dies; more >= 1; more--) {
+                due.is("dies " + dies + ": dies()", more, x.dies());
+                due.is("asked alone: count(8)", dies - more, x.count(8));
+                x.term();
+            }
+            due.is("dies " + dies + ": word(1, 5)", 1, x.word(1, 5));
+        }
+        WordSeats lowered = swing(9);
+        lowered.term();
+        lowered.term();
+        lowered.bill(2, 1);
+        due.is("above dies already: dies()", 1, lowered.dies());
+    }
+
+    @Says("all as it is,")
+    static void promise28_allAsItIs(Due due) {
+        WordSeats x = swing(3);
+        x.term();
+        x.term();
+        due.is("dies()", 1, x.dies());
+        x.need(0, 2);
+        due.is("the other sits then: dies()", 3, x.dies());
+        x.bill(1, 100);
+        x.need(0, 1);
+        due.is("barely enough: dies()", 1, x.dies());
+        WordSeats barred = Town.of(2).dies(4).bar(51).district(1).word(3, 0, 0, 0).word(3, 0, 0, 1)
+            .speaker(0, 1, 0).speaker(0, 1, 1).open();
+        due.is("nobody sits: dies()", 4, barred.dies());
+        due.is("nothing happens: word(0, 4)", 0, barred.word(0, 4));
+    }
+
+    /** Words 2 and 3 die by the third term; then word 0, which has one of three by then. */
+    @Says("the first WORD (more) dies.")
+    static void promise28_theFirstWordMore(Due due) {
+        WordSeats x = after(2, Texts.SPOILT);
+        x.need(0, 2);
+        due.is("dies()", 1, x.dies());
+        x.term();
+        due.row("word(w, 5), w ", Due.ints(0, 0, 1, 1), w -> x.word(w, 5));
+        due.is("dies()", 2, x.dies());
+        x.term();
+        due.is("dies()", 1, x.dies());
+        x.term();
+        due.is("word(0, 5)", 1, x.word(0, 5));
+        due.is("dies()", -1, x.dies());
+    }
+
+    @Says("NONE: none does;")
+    static void promise28_noneDoes(Due due) {
+        due.is("all others are dead: dies()", -1, after(3, Texts.SPOILT).dies());
+        due.is("one alone sits: dies()", -1, Town.of(1).dies(1).district(1).word(1, 0, 0, 0).speaker(0, 1, 0).open().dies());
+        due.is("no words: dies()", -1, Town.of(1).open().dies());
+    }
+
+    @Says("-2 likewise.")
+    static void promise28_noChamber(Due due) {
+        due.is("dies()", -2, new WordSeats().dies());
     }
 }
