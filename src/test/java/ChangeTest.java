@@ -1,3 +1,5 @@
+import java.math.BigInteger;
+
 /** Term VII and promises 55 to 59: what is changed, and elections drawn. */
 final class ChangeTest {
     private static final int FAR = Integer.MAX_VALUE;
@@ -58,6 +60,9 @@ final class ChangeTest {
         due.is("where it stands: stand(2, 0)", -5, x.stand(2, 0));
         x.undo();
         due.is("all taken back: stand(2, 1)", 0, x.stand(2, 1));
+        x.bill(1, 100);
+        x.term();
+        due.is("nobody sits by it: stand(2, 0)", -5, x.stand(2, 0));
     }
 
     @Says("-2: there are none such.")
@@ -183,10 +188,10 @@ final class ChangeTest {
     @Says("modulo 2,147,483,648")
     static void termVII_modulo(Due due) {
         for (int seed : new int[] {7, 123456789, 1073741824, 1999999999, 2000000000}) {
-            java.math.BigInteger x = java.math.BigInteger.valueOf(seed);
+            BigInteger x = BigInteger.valueOf(seed);
             for (int speaker = 0; speaker < 9; speaker++) {
-                x = x.multiply(java.math.BigInteger.valueOf(1103515245)).add(java.math.BigInteger.valueOf(12345))
-                    .mod(java.math.BigInteger.valueOf(2147483648L));
+                x = x.multiply(BigInteger.valueOf(1103515245)).add(BigInteger.valueOf(12345))
+                    .mod(BigInteger.valueOf(2147483648L));
                 int draw = x.intValueExact() / 65536 % 100;
                 due.is("seed " + seed + ", speaker " + speaker + ": drawn", -1, oneComes(speaker, draw).drawn(seed, 0));
                 due.is("seed " + seed + ", speaker " + speaker + ": drawn", 0, oneComes(speaker, draw + 1).drawn(seed, 0));
@@ -275,7 +280,7 @@ final class ChangeTest {
         WordSeats x = Due.chamber(Texts.LAWS);
         due.all("drawn(0, ", -2, d -> x.drawn(0, d), -1, 2, FAR, FAR_BELOW);
         due.is("no chamber: drawn(0, 0)", -2, new WordSeats().drawn(0, 0));
-        due.is("no districts: drawn(0, 0)", -2, Town.of(1).open().drawn(0, 0));
+        due.is("no districts: drawn(0, 0)", -2, Town.bare().drawn(0, 0));
     }
 
     @Says("Of n (1 .. 20) such from seeds, the seed and 1, ..,")

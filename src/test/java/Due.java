@@ -68,6 +68,14 @@ final class Due {
         return x.end(length + bytes.length);
     }
 
+    /** A SLOT has these numbers. */
+    static void lay(WordSeats x, int slot, int width, long... numbers) {
+        x.row(slot, width, numbers.length);
+        for (int i = 0; i < numbers.length; i++) {
+            x.write(slot, i, numbers[i]);
+        }
+    }
+
     /** A new object with the CHAMBER of a text. */
     static WordSeats chamber(String text) {
         WordSeats x = new WordSeats();

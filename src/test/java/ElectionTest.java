@@ -15,23 +15,10 @@ final class ElectionTest {
             .speaker(0, 1, 0, 1).open();
     }
 
-    /** Words 1, 2 and 3 have died, word 0 has 6 votes of 18. */
-    private static WordSeats buried() {
-        WordSeats x = Due.chamber(Texts.SPOILT);
-        for (int i = 0; i < 3; i++) {
-            x.term();
-        }
-        return x;
-    }
-
     /** Two words with as many votes each, and no others. */
     private static WordSeats even(int letters, int otherLetters) {
         return Town.of(2).district(1).word(letters, 0, 0, 0).word(otherLetters, 0, 0, 1)
             .speaker(0, 4, 0).speaker(0, 4, 1).open();
-    }
-
-    private static WordSeats bare() {
-        return Town.of(1).open();
     }
 
     // Term II: liking and orders
@@ -152,6 +139,11 @@ final class ElectionTest {
         WordSeats one = Town.of(2).district(1).word(3, 0, 0, 0).speaker(0, 2, 0).speaker(0, 9, 1).open();
         due.is("one alone: wins(0, 1)", 0, one.wins(0, 1));
         due.is("one alone: with(0, 1)", 2, one.with(0, 1));
+        // Word 0, which all like most, stands elsewhere.
+        WordSeats elsewhere = Town.of(2).district(1).district(1).district(1).word(3, 0, 0, 0, 1).word(3, 1, 0, 0)
+            .speaker(0, 2, 0).speaker(1, 2, 0, 1).speaker(2, 9, 0, 1).open();
+        due.row("elsewhere: wins(d, 1), d ", Due.ints(0, 1, -1), d -> elsewhere.wins(d, 1));
+        due.row("elsewhere: with(d, 1), d ", Due.ints(2, 2, -1), d -> elsewhere.with(d, 1));
     }
 
     /** Words 1 and 2 have 2 votes each: if word 2 comes to the runoff, speaker 1 gives it two more. */
@@ -438,7 +430,7 @@ final class ElectionTest {
             due.all("word(w, " + what + "), w ", -2, word -> x.word(word, w), -1, 8, 9, FAR, FAR_BELOW);
         }
         due.is("no chamber: word(0, 0)", -2, new WordSeats().word(0, 0));
-        due.is("no words: word(0, 0)", -2, bare().word(0, 0));
+        due.is("no words: word(0, 0)", -2, Town.bare().word(0, 0));
     }
 
     @Says("Of a SPEAKER, what 0: DISTRICT,")
@@ -471,7 +463,7 @@ final class ElectionTest {
         due.all("speaker(6, ", -2, what -> x.speaker(6, what), -1, 4, 5, FAR, FAR_BELOW);
         due.all("speaker(s, 0), s ", -2, s -> x.speaker(s, 0), -1, 7, 8, FAR, FAR_BELOW);
         due.is("no chamber: speaker(0, 0)", -2, new WordSeats().speaker(0, 0));
-        due.is("no speakers: speaker(0, 0)", -2, bare().speaker(0, 0));
+        due.is("no speakers: speaker(0, 0)", -2, Town.bare().speaker(0, 0));
     }
 
     @Says("Of a DISTRICT, what 0: seats,")
@@ -491,7 +483,7 @@ final class ElectionTest {
 
     @Says("(not dead), as bits,")
     static void promise8_theDeadDoNotStand(Due due) {
-        due.is("district(0, 1)", 1, buried().district(0, 1));
+        due.is("district(0, 1)", 1, Texts.buried().district(0, 1));
     }
 
     @Says("2: votes of all its SPEAKERS.")
@@ -512,7 +504,7 @@ final class ElectionTest {
         due.all("district(1, ", -2, what -> x.district(1, what), -1, 3, 4, FAR, FAR_BELOW);
         due.all("district(d, 0), d ", -2, d -> x.district(d, 0), -1, 2, 3, FAR, FAR_BELOW);
         due.is("no chamber: district(0, 0)", -2, new WordSeats().district(0, 0));
-        due.is("no districts: district(0, 0)", -2, bare().district(0, 0));
+        due.is("no districts: district(0, 0)", -2, Town.bare().district(0, 0));
     }
 
     // promises 9 to 12
@@ -530,7 +522,7 @@ final class ElectionTest {
     @Says("(of whatever DISTRICT, dead or not).")
     static void promise9_ofWhateverDistrictDeadOrNot(Due due) {
         due.is("elsewhere: likes(6, 0)", 1, Due.chamber(Texts.LAWS).likes(6, 0));
-        WordSeats x = buried();
+        WordSeats x = Texts.buried();
         due.is("dead: word(1, 5)", 1, x.word(1, 5));
         due.row("dead: likes(1, ", Due.ints(0, 1, 1, 0), w -> x.likes(1, w));
     }
@@ -557,7 +549,7 @@ final class ElectionTest {
         WordSeats x = Due.chamber(Texts.LAWS);
         due.all("order(0, ", -1, i -> x.order(0, i), -1, 3, 4, 9, FAR, FAR_BELOW);
         due.all("likes nobody: order(6, ", -1, i -> x.order(6, i), -1, 0, 1, FAR);
-        WordSeats dead = buried();
+        WordSeats dead = Texts.buried();
         due.all("all liked are dead: order(1, ", -1, i -> dead.order(1, i), 0, 1);
         Town nine = Town.of(1).district(1);
         for (int i = 0; i < 9; i++) {
@@ -589,7 +581,7 @@ final class ElectionTest {
 
     @Says("(0: it is dead).")
     static void promise11_theDeadHave0(Due due) {
-        WordSeats x = buried();
+        WordSeats x = Texts.buried();
         due.row("votes(", Due.ints(6, 0, 0, 0, -2), x::votes);
     }
 
@@ -611,7 +603,7 @@ final class ElectionTest {
 
     @Says("(nobody LIKED).")
     static void promise12_nobodyLiked(Due due) {
-        WordSeats dead = buried();
+        WordSeats dead = Texts.buried();
         due.is("the dead are not liked: abstains(0)", 12, dead.abstains(0));
         WordSeats x = Town.of(2).district(1).district(1).word(3, 1, 0, 0).speaker(0, 4, 0).speaker(0, 3, 1).speaker(1, 9, 1).open();
         due.row("abstains(", Due.ints(7, 9), x::abstains);
@@ -792,7 +784,7 @@ final class ElectionTest {
 
     @Says("dead.")
     static void promise17_dead(Due due) {
-        WordSeats x = buried();
+        WordSeats x = Texts.buried();
         due.all("beats(0, ", -2, w -> x.beats(0, w), 1, 2, 3);
         due.all("beats(w, 0), w ", -2, w -> x.beats(w, 0), 1, 2, 3);
         due.is("both: beats(1, 2)", -2, x.beats(1, 2));
@@ -804,7 +796,7 @@ final class ElectionTest {
         due.row("best(", Due.ints(2, 5), x::best);
         due.is("spoilt: best(0)", 2, Due.chamber(Texts.SPOILT).best(0));
         due.is("one alone: best(0)", 0, Town.of(1).district(1).word(3, 0, 0, 0).open().best(0));
-        due.is("the dead are no others: best(0)", 0, buried().best(0));
+        due.is("the dead are no others: best(0)", 0, Texts.buried().best(0));
     }
 
     /** In the ring each of three beats one; in the other two are even. */
@@ -834,7 +826,7 @@ final class ElectionTest {
         due.row("unlike(0, ", Due.ints(0, 1, 1, 2), law -> x.unlike(0, law));
         due.row("unlike(3, ", Due.ints(2, 2, 2, 0), law -> x.unlike(3, law));
         due.is("unlike(1, 2)", 0, x.unlike(1, 2));
-        due.is("no districts: unlike(0, 3)", 0, bare().unlike(0, 3));
+        due.is("no districts: unlike(0, 3)", 0, Town.bare().unlike(0, 3));
     }
 
     @Says("(or nobody) SIT by two LAWS.")
@@ -913,7 +905,7 @@ final class ElectionTest {
         WordSeats x = Due.chamber(Texts.SPOILT);
         x.bill(1, 34);
         due.is("bar 34: spoils(0)", -1, x.spoils(0));
-        due.is("one alone: spoils(0)", -1, buried().spoils(0));
+        due.is("one alone: spoils(0)", -1, Texts.buried().spoils(0));
     }
 
     @Says("-2: there is none such,")
@@ -925,7 +917,7 @@ final class ElectionTest {
 
     @Says("it is dead.")
     static void promise21_itIsDead(Due due) {
-        WordSeats x = buried();
+        WordSeats x = Texts.buried();
         due.all("spoils(", -2, x::spoils, 1, 2, 3);
     }
 
@@ -975,7 +967,7 @@ final class ElectionTest {
     @Says("-2: there is no CHAMBER.")
     static void promise22_noChamber(Due due) {
         due.is("spoilers()", -2, new WordSeats().spoilers());
-        due.is("no words: spoilers()", 0, bare().spoilers());
+        due.is("no words: spoilers()", 0, Town.bare().spoilers());
     }
 
     @Says("Who would SIT in all DISTRICTS, were there an election by the law now, as bits.")
@@ -989,7 +981,7 @@ final class ElectionTest {
         x.bill(1, 84);
         due.is("bar 84: elected()", 4, x.elected());
         due.is("nothing happens: sitting()", 0, x.sitting());
-        due.is("no districts: elected()", 0, bare().elected());
+        due.is("no districts: elected()", 0, Town.bare().elected());
     }
 
     @Says("-2 likewise.")

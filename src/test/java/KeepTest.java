@@ -11,13 +11,6 @@ final class KeepTest {
         return Due.chamber(Texts.TONGUE);
     }
 
-    private static void lay(WordSeats x, int slot, int width, long... numbers) {
-        x.row(slot, width, numbers.length);
-        for (int i = 0; i < numbers.length; i++) {
-            x.write(slot, i, numbers[i]);
-        }
-    }
-
     // promise 60
 
     @Says("0 MEANINGS,")
@@ -87,7 +80,7 @@ final class KeepTest {
     @Says("9 LINES,")
     static void promise60_lines(Due due) {
         due.is("count(9)", 15, tongue().count(9));
-        due.is("count(9)", 1, Town.of(1).open().count(9));
+        due.is("count(9)", 1, Town.bare().count(9));
     }
 
     @Says("10 bytes of the TAPE,")
@@ -197,6 +190,28 @@ final class KeepTest {
         due.row("word(w, 5), w ", Due.ints(0, 0, 0, 0), w -> x.word(w, 5));
     }
 
+    /** Words 1 and 2 sit once; words 0 and 3 die by the second term, word 1 by the third, word 2 by the fourth. */
+    @Says("TERMS too: 0.")
+    static void promise61_keepsWhoDiedWhen(Due due) {
+        WordSeats x = Town.of(4).dies(2).district(1).word(3, 0, 0, 0).word(3, 0, 0, 1).word(3, 0, 0, 2).word(3, 0, 0, 3)
+            .speaker(0, 1, 0).open();
+        int[] needs = {2, 4, 8, 1, 1};
+        int[] dead = {0, 0, 9, 11, 15, 15};
+        for (int i = 0; i < 5; i++) {
+            x.need(0, needs[i]);
+            x.term();
+        }
+        x.image(0);
+        Due.tell(x, Texts.LAWS);
+        x.chamber();
+        x.term();
+        x.back(0);
+        for (int held = 5; held > 0; held--) {
+            due.is("behind term " + held + ": who stands", 15 & ~dead[held], x.district(0, 1));
+            x.undo();
+        }
+    }
+
     @Says("-2: no such k.")
     static void promise61_noSuchImage(Due due) {
         due.all("image(", -2, tongue()::image, -1, 3, FAR, FAR_BELOW);
@@ -248,7 +263,7 @@ final class KeepTest {
         x.image(0);
         Due.tell(x, "chamber;");
         x.chamber();
-        lay(x, 1, 0, 0, 0);
+        Due.lay(x, 1, 0, 0, 0);
         due.is("back(0)", 0, x.back(0));
         due.is("fault(0)", 1, x.fault(0));
         due.is("fault(1)", 7, x.fault(1));
@@ -294,7 +309,7 @@ final class KeepTest {
     @Says("all 0")
     static void promise63_all0(Due due) {
         WordSeats x = tongue();
-        lay(x, 0, 0, 1, 2, 1, 2);
+        Due.lay(x, 0, 0, 1, 2, 1, 2);
         due.is("fits(0)", 3, x.fits(0));
         due.is("word 2 sat: sure(0, 0)", 4, x.sure(0, 0));
         for (int width = 0; width < 4; width++) {
@@ -338,7 +353,7 @@ final class KeepTest {
         WordSeats x = tongue();
         due.all("row(0, 0, ", -2, n -> x.row(0, 0, n), 61, 62, FAR);
         due.is("nothing happens: count(11)", 0, x.count(11));
-        lay(x, 0, 0, 1, 2);
+        Due.lay(x, 0, 0, 1, 2);
         due.is("row(0, 1, 61)", -2, x.row(0, 1, 61));
         due.is("the row is as it was: sure(0, 0)", 4, x.sure(0, 0));
         due.is("row(0, 0, 60)", 0, x.row(0, 0, 60));
@@ -350,7 +365,7 @@ final class KeepTest {
         due.all("row(0, 0, ", -3, n -> x.row(0, 0, n), -1, -2, FAR_BELOW);
         due.is("it has nothing as before: write(0, 0, 0)", -6, x.write(0, 0, 0));
         due.is("count(11)", 0, x.count(11));
-        lay(x, 0, 0, 1, 2);
+        Due.lay(x, 0, 0, 1, 2);
         due.is("row(0, 1, -1)", -3, x.row(0, 1, -1));
         due.is("the slot stays: sure(0, 0)", 4, x.sure(0, 0));
         due.is("its width stays: write(0, 1, 258)", 0, x.write(0, 1, 258));
@@ -411,7 +426,7 @@ final class KeepTest {
     @Says("-7: there is no such number.")
     static void promise64_noSuchNumber(Due due) {
         WordSeats x = tongue();
-        lay(x, 0, 0, 1, 2);
+        Due.lay(x, 0, 0, 1, 2);
         due.all("write(0, i, 1), i ", -7, i -> x.write(0, i, 1), -1, 2, 59, 60, FAR, FAR_BELOW);
         due.is("nothing happens: sure(0, 0)", 4, x.sure(0, 0));
         x.row(1, 0, 0);
@@ -423,7 +438,7 @@ final class KeepTest {
     @Says("So many numbers of a SLOT's row, from one on, are put to another one's")
     static void promise65_putToAnother(Due due) {
         WordSeats x = tongue();
-        lay(x, 0, 1, 0, 0, 1, 2, 3, 9);
+        Due.lay(x, 0, 1, 0, 0, 1, 2, 3, 9);
         x.row(1, 1, 4);
         due.is("paste(0, 2, 1, 0, 2)", 0, x.paste(0, 2, 1, 0, 2));
         due.is("1 2 0 0: sure(1, 0)", 5, x.sure(1, 0));
@@ -439,10 +454,10 @@ final class KeepTest {
     @Says({"(or its own),", "from one on, as they were: 0."})
     static void promise65_putToItsOwnAsTheyWere(Due due) {
         WordSeats x = tongue();
-        lay(x, 0, 1, 0, 0, 1, 2, 3, 9);
+        Due.lay(x, 0, 1, 0, 0, 1, 2, 3, 9);
         due.is("forth: paste(0, 0, 0, 2, 4)", 0, x.paste(0, 0, 0, 2, 4));
         due.is("0 0 0 0 1 2: sure(0, 0)", 5, x.sure(0, 0));
-        lay(x, 0, 1, 2, 1, 2, 0, 0, 3);
+        Due.lay(x, 0, 1, 2, 1, 2, 0, 0, 3);
         due.is("back: paste(0, 1, 0, 0, 5)", 0, x.paste(0, 1, 0, 0, 5));
         // 1 2 0 0 3 3: word 3 does not mean 3.
         due.is("fits(0)", 0, x.fits(0));
@@ -457,7 +472,7 @@ final class KeepTest {
     static void promise65_asTheyWereOfEveryWidth(Due due) {
         for (int width = 0; width < 4; width++) {
             WordSeats x = tongue();
-            lay(x, 0, width, 4, 9, 1, 2);
+            Due.lay(x, 0, width, 4, 9, 1, 2);
             x.row(3, width, 2);
             due.is("paste(0, 2, 3, 0, 2)", 0, x.paste(0, 2, 3, 0, 2));
             due.is("width " + width + ": sure(3, 0)", 4, x.sure(3, 0));
@@ -504,7 +519,7 @@ final class KeepTest {
     /** A row of 6 and one of 4. */
     private static WordSeats twoRows() {
         WordSeats x = tongue();
-        lay(x, 0, 1, 1, 2, 1, 2, 1, 2);
+        Due.lay(x, 0, 1, 1, 2, 1, 2, 1, 2);
         x.row(1, 1, 4);
         return x;
     }
@@ -530,6 +545,7 @@ final class KeepTest {
     @Says("or a place or n is below 0.")
     static void promise65_below0(Due due) {
         beyond(due, Due.ints(-1, 0, 1), Due.ints(0, -1, 1), Due.ints(0, 0, -1), Due.ints(-1, -1, -1), Due.ints(-1, 0, 0),
-            Due.ints(0, -1, 0), Due.ints(2, 2, -2), Due.ints(FAR_BELOW, 0, FAR), Due.ints(0, FAR_BELOW, FAR), Due.ints(0, 0, FAR_BELOW));
+            Due.ints(0, -1, 0), Due.ints(2, 2, -2));
+        beyond(due, Due.ints(FAR_BELOW, 0, FAR), Due.ints(0, FAR_BELOW, FAR), Due.ints(0, 0, FAR_BELOW));
     }
 }

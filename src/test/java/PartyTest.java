@@ -19,20 +19,10 @@ final class PartyTest {
         return town;
     }
 
-    private static WordSeats seated(Town town) {
-        WordSeats x = town.open();
-        x.term();
-        return x;
-    }
-
     /** Meaning 0 is party 0's, meaning 1 party 1's, in both districts. */
     private static Town two() {
         return Town.of(2).district(1).district(1).word(3, 0, 0, 0).word(3, 0, 1, 1).word(3, 1, 0, 0).word(3, 1, 1, 1)
             .speaker(0, 5, 0).speaker(0, 5, 0).speaker(1, 4, 1).speaker(1, 11, 1);
-    }
-
-    private static WordSeats bare() {
-        return Town.of(1).open();
     }
 
     private static void put(Due due, WordSeats x, int party, int most, int... row) {
@@ -44,20 +34,20 @@ final class PartyTest {
 
     @Says("PARTIES 0 .. 3 have the seats of DISTRICTS whose SITTING WORD is of theirs.")
     static void termVI_seatsOfDistrictsOfTheirSittingWords(Due due) {
-        WordSeats x = seated(four(4, 3, 2, 1));
+        WordSeats x = four(4, 3, 2, 1).seated();
         due.row("seats(", Due.ints(4, 3, 2, 1, -2), x::seats);
-        WordSeats one = seated(Town.of(1).district(2).district(9).word(1, 0, 3, 0).word(1, 1, 3, 0).word(9, 1, 2, 0)
-            .speaker(0, 1, 0).speaker(1, 1, 0));
+        WordSeats one = Town.of(1).district(2).district(9).word(1, 0, 3, 0).word(1, 1, 3, 0).word(9, 1, 2, 0)
+            .speaker(0, 1, 0).speaker(1, 1, 0).seated();
         due.row("word 1 does not sit: seats(", Due.ints(0, 0, 9, 2), one::seats);
     }
 
     @Says("MAJORITY: more than half")
     static void termVI_majorityIsMoreThanHalf(Due due) {
-        WordSeats x = seated(four(4, 3, 2, 1));
+        WordSeats x = four(4, 3, 2, 1).seated();
         due.is("5 of 10: majority(9)", 0, x.majority(9));
         due.is("5 of 10: majority(6)", 0, x.majority(6));
         due.is("6 of 10: majority(5)", 1, x.majority(5));
-        WordSeats odd = seated(four(4, 3, 1, 1));
+        WordSeats odd = four(4, 3, 1, 1).seated();
         due.is("5 of 9: majority(9)", 1, odd.majority(9));
         due.is("4 of 9: majority(1)", 0, odd.majority(1));
     }
@@ -78,29 +68,29 @@ final class PartyTest {
     /** Of 24 orders 10 are party 0's, 6 party 1's and 2's each, 2 party 3's. */
     @Says("SHARE: of all orders in which PARTIES may come, alike likely, the part in which it makes the MAJORITY.")
     static void termVI_shareOfOrders(Due due) {
-        WordSeats x = seated(four(4, 3, 2, 1));
+        WordSeats x = four(4, 3, 2, 1).seated();
         due.row("share(p, 0), p ", Due.ints(5, 1, 1, 1), p -> x.share(p, 0));
         due.row("share(p, 1), p ", Due.ints(12, 4, 4, 12), p -> x.share(p, 1));
-        WordSeats even = seated(four(2, 2, 2, 2));
+        WordSeats even = four(2, 2, 2, 2).seated();
         due.row("even: share(p, 0), p ", Due.ints(1, 1, 1, 1), p -> even.share(p, 0));
         due.row("even: share(p, 1), p ", Due.ints(4, 4, 4, 4), p -> even.share(p, 1));
         // Party 0 has none of its own by itself, and none comes about without it.
-        WordSeats veto = seated(four(5, 3, 1, 1));
+        WordSeats veto = four(5, 3, 1, 1).seated();
         due.row("5 of 10: share(p, 0), p ", Due.ints(3, 1, 1, 1), p -> veto.share(p, 0));
         due.row("5 of 10: share(p, 1), p ", Due.ints(4, 12, 12, 12), p -> veto.share(p, 1));
     }
 
     @Says("FRACTIONS are told in lowest terms")
     static void termVI_fractionsInLowestTerms(Due due) {
-        WordSeats all = seated(four(9, 1, 1, 1));
+        WordSeats all = four(9, 1, 1, 1).seated();
         due.is("24 of 24: share(0, 0)", 1, all.share(0, 0));
         due.is("24 of 24: share(0, 1)", 1, all.share(0, 1));
-        WordSeats half = seated(four(3, 1, 1, 1));
+        WordSeats half = four(3, 1, 1, 1).seated();
         due.is("18 of 24: share(0, 0)", 3, half.share(0, 0));
         due.is("18 of 24: share(0, 1)", 4, half.share(0, 1));
         due.is("2 of 24: share(1, 0)", 1, half.share(1, 0));
         due.is("2 of 24: share(1, 1)", 12, half.share(1, 1));
-        WordSeats third = seated(four(2, 2, 1, 1));
+        WordSeats third = four(2, 2, 1, 1).seated();
         due.is("8 of 24: share(0, 0)", 1, third.share(0, 0));
         due.is("8 of 24: share(0, 1)", 3, third.share(0, 1));
         due.is("4 of 24: share(2, 0)", 1, third.share(2, 0));
@@ -112,7 +102,7 @@ final class PartyTest {
         WordSeats x = four(4, 3, 2, 1).open();
         due.row("nobody sits: share(p, 0), p ", Due.ints(0, 0, 0, 0), p -> x.share(p, 0));
         due.row("nobody sits: share(p, 1), p ", Due.ints(1, 1, 1, 1), p -> x.share(p, 1));
-        WordSeats all = seated(four(9, 1, 1, 1));
+        WordSeats all = four(9, 1, 1, 1).seated();
         due.is("of no weight: share(3, 0)", 0, all.share(3, 0));
         due.is("of no weight: share(3, 1)", 1, all.share(3, 1));
     }
@@ -131,26 +121,26 @@ final class PartyTest {
 
     @Says("-2: there is none such,")
     static void promise44_noneSuch(Due due) {
-        due.all("seats(", -2, seated(four(4, 3, 2, 1))::seats, -1, 4, FAR, FAR_BELOW);
+        due.all("seats(", -2, four(4, 3, 2, 1).seated()::seats, -1, 4, FAR, FAR_BELOW);
     }
 
     @Says("no CHAMBER.")
     static void promise44_noChamber(Due due) {
         due.all("seats(", -2, new WordSeats()::seats, -1, 0, 3);
-        due.is("no districts: seats(0)", 0, bare().seats(0));
+        due.is("no districts: seats(0)", 0, Town.bare().seats(0));
     }
 
     @Says("Whether a set of PARTIES (bits) has the MAJORITY: 1, 0.")
     static void promise45_whetherASetHasIt(Due due) {
-        WordSeats x = seated(four(4, 3, 2, 1));
+        WordSeats x = four(4, 3, 2, 1).seated();
         due.row("majority(", Due.ints(0, 0, 0, 1, 0, 1, 0, 1, 0, 0, 0, 1, 0, 1, 1, 1), x::majority);
         due.is("nobody sits: majority(15)", 0, four(4, 3, 2, 1).open().majority(15));
-        due.is("no districts: majority(15)", 0, bare().majority(15));
+        due.is("no districts: majority(15)", 0, Town.bare().majority(15));
     }
 
     @Says("-2: there is no such set,")
     static void promise45_noSuchSet(Due due) {
-        due.all("majority(", -2, seated(four(4, 3, 2, 1))::majority, -1, 16, 17, FAR, FAR_BELOW);
+        due.all("majority(", -2, four(4, 3, 2, 1).seated()::majority, -1, 16, 17, FAR, FAR_BELOW);
     }
 
     @Says("no CHAMBER.")
@@ -160,14 +150,14 @@ final class PartyTest {
 
     @Says("SHARE of a PARTY, above (what 0), below (1).")
     static void promise46_aboveAndBelow(Due due) {
-        WordSeats x = seated(four(4, 3, 2, 1));
+        WordSeats x = four(4, 3, 2, 1).seated();
         due.row("share(0, ", Due.ints(5, 12), what -> x.share(0, what));
         due.row("share(3, ", Due.ints(1, 12), what -> x.share(3, what));
     }
 
     @Says("-2: there are none such,")
     static void promise46_noneSuch(Due due) {
-        WordSeats x = seated(four(4, 3, 2, 1));
+        WordSeats x = four(4, 3, 2, 1).seated();
         due.all("share(0, ", -2, what -> x.share(0, what), -1, 2, FAR, FAR_BELOW);
         due.all("share(p, 0), p ", -2, p -> x.share(p, 0), -1, 4, FAR, FAR_BELOW);
         due.all("share(p, 1), p ", -2, p -> x.share(p, 1), -1, 4, FAR, FAR_BELOW);
@@ -180,13 +170,13 @@ final class PartyTest {
 
     @Says("The least set (fewest PARTIES,")
     static void promise47_fewestParties(Due due) {
-        due.is("6 of 10: coalition()", 3, seated(four(4, 3, 2, 1)).coalition());
-        due.is("one alone: coalition()", 8, seated(four(1, 1, 1, 9)).coalition());
+        due.is("6 of 10: coalition()", 3, four(4, 3, 2, 1).seated().coalition());
+        due.is("one alone: coalition()", 8, four(1, 1, 1, 9).seated().coalition());
         // Parties 0, 1 and 2 have 6 of 10 too, and come first by their bits.
-        WordSeats x = seated(four(4, 1, 1, 4));
+        WordSeats x = four(4, 1, 1, 4).seated();
         due.is("majority(7)", 1, x.majority(7));
         due.is("two are fewer: coalition()", 9, x.coalition());
-        due.is("three of four: coalition()", 7, seated(four(1, 1, 1, 1)).coalition());
+        due.is("three of four: coalition()", 7, four(1, 1, 1, 1).seated().coalition());
         WordSeats all = four(1, 1, 1, 9).open();
         all.stand(3, 0);
         all.term();
@@ -195,14 +185,14 @@ final class PartyTest {
 
     @Says("then least bits) that has the MAJORITY.")
     static void promise47_leastBits(Due due) {
-        due.is("parties 1 and 2, 1 and 3, 2 and 3: coalition()", 6, seated(four(1, 3, 3, 3)).coalition());
-        due.is("any two but 2 and 3: coalition()", 3, seated(four(3, 3, 2, 2)).coalition());
+        due.is("parties 1 and 2, 1 and 3, 2 and 3: coalition()", 6, four(1, 3, 3, 3).seated().coalition());
+        due.is("any two but 2 and 3: coalition()", 3, four(3, 3, 2, 2).seated().coalition());
     }
 
     @Says("NONE: none has;")
     static void promise47_noneHas(Due due) {
         due.is("nobody sits: coalition()", -1, four(4, 3, 2, 1).open().coalition());
-        due.is("no districts: coalition()", -1, bare().coalition());
+        due.is("no districts: coalition()", -1, Town.bare().coalition());
     }
 
     @Says("-2: there is no CHAMBER.")
@@ -212,21 +202,21 @@ final class PartyTest {
 
     @Says("PARTIES of a set without each of which alone it has no MAJORITY, as bits")
     static void promise48_withoutEachOfWhich(Due due) {
-        WordSeats x = seated(four(4, 3, 2, 1));
+        WordSeats x = four(4, 3, 2, 1).seated();
         due.row("breaks(", Due.ints(0, 0, 0, 3, 0, 5, 0, 1, 0, 0, 0, 3, 0, 5, 14, 0), x::breaks);
-        due.is("one has it all: breaks(15)", 1, seated(four(9, 1, 1, 1)).breaks(15));
+        due.is("one has it all: breaks(15)", 1, four(9, 1, 1, 1).seated().breaks(15));
     }
 
     @Says("(0: it has none).")
     static void promise48_itHasNone(Due due) {
-        WordSeats x = seated(four(4, 3, 2, 1));
+        WordSeats x = four(4, 3, 2, 1).seated();
         due.all("breaks(", 0, x::breaks, 0, 1, 2, 4, 6, 8, 9, 10, 12);
         due.is("nobody sits: breaks(15)", 0, four(4, 3, 2, 1).open().breaks(15));
     }
 
     @Says("-2: there is no such set,")
     static void promise48_noSuchSet(Due due) {
-        due.all("breaks(", -2, seated(four(4, 3, 2, 1))::breaks, -1, 16, 17, FAR, FAR_BELOW);
+        due.all("breaks(", -2, four(4, 3, 2, 1).seated()::breaks, -1, 16, 17, FAR, FAR_BELOW);
     }
 
     @Says("no CHAMBER.")
@@ -246,6 +236,8 @@ final class PartyTest {
             due.row("lists(" + n + ", ", lists[n], p -> x.lists(seats, p));
         }
         due.row("lists(20, ", Due.ints(8, 6, 4, 2), p -> x.lists(20, p));
+        WordSeats one = Town.of(1).district(1).word(1, 0, 3, 0).speaker(0, 1, 0).open();
+        due.row("one vote: lists(20, ", Due.ints(0, 0, 0, 20), p -> one.lists(20, p));
     }
 
     /** Party 0 has 5 and 5 first votes in two districts, of three words; party 1 has 15 by one. */
@@ -260,6 +252,11 @@ final class PartyTest {
         x.bill(0, 3);
         x.bill(1, 100);
         due.row("whatever the law: lists(5, ", Due.ints(2, 3), p -> x.lists(5, p));
+        // Then party 0 has all of them, 25.
+        x.need(2, 5);
+        due.row("as all is now: lists(5, ", Due.ints(5, 0), p -> x.lists(5, p));
+        x.need(2, 2);
+        due.row("as all is now: lists(5, ", Due.ints(2, 3), p -> x.lists(5, p));
     }
 
     @Says("by its seats and one")
@@ -299,7 +296,7 @@ final class PartyTest {
     static void promise49_noVotes(Due due) {
         WordSeats x = Town.of(2).district(1).word(1, 0, 0, 0).speaker(0, 9, 1).open();
         due.row("lists(20, ", Due.ints(0, 0, 0, 0), p -> x.lists(20, p));
-        due.row("no words: lists(5, ", Due.ints(0, 0, 0, 0), p -> bare().lists(5, p));
+        due.row("no words: lists(5, ", Due.ints(0, 0, 0, 0), p -> Town.bare().lists(5, p));
     }
 
     @Says("-2: there are none such,")
@@ -408,7 +405,7 @@ final class PartyTest {
 
     @Says("no DISTRICT.")
     static void promise50_noDistrict(Due due) {
-        due.is("bare: rigged(0)", -2, bare().rigged(0));
+        due.is("bare: rigged(0)", -2, Town.bare().rigged(0));
         due.is("no chamber: rigged(0)", -2, new WordSeats().rigged(0));
     }
 
@@ -420,6 +417,24 @@ final class PartyTest {
         WordSeats last = Town.of(2).district(1).district(1).word(1, 0, 1, 0).word(1, 1, 0, 0).speaker(0, 1, 0).speaker(0, 1, 1).open();
         put(due, last, 0, 1, 1, 0);
         put(due, last, 1, 1, 0, 1);
+        due.is("asked of at once: put(1, 2)", 1, two().open().put(1, 2));
+        due.is("asked of at once: put(1, 3)", 0, two().open().put(1, 3));
+        WordSeats one = Town.of(1).district(1).word(1, 0, 0, 0).speaker(0, 1, 0).speaker(0, 1, 0).open();
+        due.row("one district: put(0, ", Due.ints(0, 0, -2), speaker -> one.put(0, speaker));
+    }
+
+    /** What was asked of one party is no answer for another, nor for what is changed since. */
+    @Says("by the first such row")
+    static void promise51_asAllIsNow(Due due) {
+        WordSeats x = two().open();
+        due.row("put(1, ", Due.ints(0, 0, 1, 0), speaker -> x.put(1, speaker));
+        due.row("put(0, ", Due.ints(0, 0, 0, 1), speaker -> x.put(0, speaker));
+        x.bill(1, 60);
+        due.row("bar 60: put(1, ", Due.ints(0, 0, 0, 1), speaker -> x.put(1, speaker));
+        x.bill(1, 0);
+        x.need(0, 2);
+        due.is("three of party 1: rigged(1)", 2, x.rigged(1));
+        due.row("three of party 1: put(1, ", Due.ints(0, 0, 0, 1), speaker -> x.put(1, speaker));
     }
 
     @Says("(the least).")
@@ -445,7 +460,7 @@ final class PartyTest {
     static void promise51_noneSuchNoDistrict(Due due) {
         WordSeats x = two().open();
         due.all("put(p, 0), p ", -2, p -> x.put(p, 0), -1, 4, FAR, FAR_BELOW);
-        due.is("bare: put(0, 0)", -2, bare().put(0, 0));
+        due.is("bare: put(0, 0)", -2, Town.bare().put(0, 0));
         due.is("no chamber: put(0, 0)", -2, new WordSeats().put(0, 0));
     }
 

@@ -96,7 +96,8 @@ final class RandomRunsTest {
                 case 3 -> out.setLength(at);
                 case 4 -> out.delete(at, Math.min(out.length(), at + random.nextInt(20)));
                 default -> {
-                    String[] words = {" chamber ", " word ", " 0 ", " 99 ", " district seats 3;", "round 0 by 1 and 0;", " 12345678901234567890 "};
+                    String[] words = {" chamber ", " word ", " 0 ", " 99 ", " district seats 3;", "round 0 by 1 and 0;",
+                        " 12345678901234567890 "};
                     out.insert(at, words[random.nextInt(words.length)]);
                 }
             }
@@ -127,7 +128,8 @@ final class RandomRunsTest {
         }
         for (int i = 0; i < speakers; i++) {
             out.append("speaker in ").append(random.nextInt(districts)).append(" votes ").append(within(1, votes))
-                .append(" comes ").append(random.nextBoolean() ? within(0, 100) : 50 * within(1, 2)).append(" needs").append(meanings(meanings, 4)).append(';');
+                .append(" comes ").append(random.nextBoolean() ? within(0, 100) : 50 * within(1, 2))
+                .append(" needs").append(meanings(meanings, 4)).append(';');
         }
         for (int i = 0; i < rounds; i++) {
             int goal = random.nextInt(meanings), a = random.nextInt(meanings), b = random.nextInt(meanings);
@@ -173,7 +175,8 @@ final class RandomRunsTest {
             case 10 -> write(of(0, 3), of(0, 6), random.nextInt(4) == 0 ? random.nextLong() : of(0, 9) + (1L << 8 * of(1, 7)));
             default -> {
                 int slot = of(0, 3), i = of(0, 3), to = of(0, 3), at = of(0, 3), n = of(0, 4);
-                is("paste(" + slot + ", " + i + ", " + to + ", " + at + ", " + n + ")", m.paste(slot, i, to, at, n), x.paste(slot, i, to, at, n));
+                is("paste(" + slot + ", " + i + ", " + to + ", " + at + ", " + n + ")",
+                    m.paste(slot, i, to, at, n), x.paste(slot, i, to, at, n));
             }
         }
     }

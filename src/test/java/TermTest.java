@@ -80,7 +80,7 @@ final class TermTest {
 
     @Says("others none;")
     static void termIV_whoIsDeadHasNone(Due due) {
-        WordSeats x = after(3, Texts.SPOILT);
+        WordSeats x = Texts.buried();
         due.row("by the term it dies: word(w, 4), w ", Due.ints(0, 3, 3, 3), w -> x.word(w, 4));
         x.term();
         due.row("by the next: word(w, 4), w ", Due.ints(0, 0, 0, 0), w -> x.word(w, 4));
@@ -117,7 +117,7 @@ final class TermTest {
 
     @Says("is dead then.")
     static void termIV_isDeadThen(Due due) {
-        WordSeats x = after(3, Texts.SPOILT);
+        WordSeats x = Texts.buried();
         due.is("district(0, 1)", 1, x.district(0, 1));
         due.is("abstains(0)", 12, x.abstains(0));
         due.is("order(1, 0)", -1, x.order(1, 0));
@@ -178,7 +178,7 @@ final class TermTest {
     @Says("-2 likewise.")
     static void promise24_noChamber(Due due) {
         due.is("sitting()", -2, new WordSeats().sitting());
-        due.is("bare: sitting()", 0, Town.of(1).open().sitting());
+        due.is("bare: sitting()", 0, Town.bare().sitting());
     }
 
     @Says("TERM (IV): how many SIT.")
@@ -192,7 +192,7 @@ final class TermTest {
         x.bill(1, 100);
         due.is("bar 100: term()", 0, x.term());
         due.is("count(8)", 3, x.count(8));
-        due.is("no districts: term()", 0, Town.of(1).open().term());
+        due.is("no districts: term()", 0, Town.bare().term());
     }
 
     @Says("-5: there were 60;")
@@ -386,9 +386,9 @@ final class TermTest {
 
     @Says("NONE: none does;")
     static void promise28_noneDoes(Due due) {
-        due.is("all others are dead: dies()", -1, after(3, Texts.SPOILT).dies());
+        due.is("all others are dead: dies()", -1, Texts.buried().dies());
         due.is("one alone sits: dies()", -1, Town.of(1).dies(1).district(1).word(1, 0, 0, 0).speaker(0, 1, 0).open().dies());
-        due.is("no words: dies()", -1, Town.of(1).open().dies());
+        due.is("no words: dies()", -1, Town.bare().dies());
     }
 
     @Says("-2 likewise.")

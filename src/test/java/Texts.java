@@ -59,4 +59,13 @@ final class Texts {
 
     private Texts() {
     }
+
+    /** Of SPOILT words 1, 2 and 3 have died by three terms; word 0 means 0 and has 6 votes of 18. */
+    static WordSeats buried() {
+        WordSeats x = Due.chamber(SPOILT);
+        for (int i = 0; i < 3; i++) {
+            x.term();
+        }
+        return x;
+    }
 }

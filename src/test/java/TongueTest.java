@@ -14,25 +14,6 @@ final class TongueTest {
         return x;
     }
 
-    private static WordSeats seated(Town town) {
-        WordSeats x = town.open();
-        x.term();
-        return x;
-    }
-
-    private static WordSeats bare() {
-        return Town.of(1).open();
-    }
-
-    /** Words 1, 2 and 3 have died, word 0 means 0. */
-    private static WordSeats buried() {
-        WordSeats x = Due.chamber(Texts.SPOILT);
-        for (int i = 0; i < 3; i++) {
-            x.term();
-        }
-        return x;
-    }
-
     /** Meaning 7 is said round by 6 twice, that by 5 twice, and so on to meaning 0, by 12 letters. */
     private static Town doubled() {
         Town town = Town.of(8).district(1).word(12, 0, 0, 0).speaker(0, 99, 0, 7);
@@ -46,9 +27,9 @@ final class TongueTest {
 
     @Says("SAID: a MEANING by the least letters of a WORD that SITS and means it;")
     static void termIII_saidByTheLeastLetters(Due due) {
-        WordSeats x = seated(Town.of(4).district(1).district(1).district(1)
+        WordSeats x = Town.of(4).district(1).district(1).district(1)
             .word(9, 0, 0, 0, 1).word(5, 1, 0, 1, 2).word(7, 2, 0, 0, 1).word(1, 2, 0, 0, 1, 2, 3)
-            .speaker(0, 1, 0).speaker(1, 1, 1).speaker(2, 1, 0));
+            .speaker(0, 1, 0).speaker(1, 1, 1).speaker(2, 1, 0).seated();
         // Word 3 is the shortest and means all, but does not sit.
         due.is("sitting()", 7, x.sitting());
         due.row("said(", Due.ints(7, 5, 5, -1), x::said);
@@ -58,39 +39,39 @@ final class TongueTest {
     static void termIII_roundByTheLettersOfBothOthers(Due due) {
         WordSeats x = twoSit();
         due.is("3 by 0 and 1, 4 and 7 letters and one: least(3)", 12, x.least(3));
-        WordSeats alike = seated(Town.of(2).district(1).word(5, 0, 0, 0).speaker(0, 1, 0).round(1, 0, 0));
+        WordSeats alike = Town.of(2).district(1).word(5, 0, 0, 0).speaker(0, 1, 0).round(1, 0, 0).seated();
         due.is("1 by 0 and 0: least(1)", 11, alike.least(1));
-        WordSeats one = seated(Town.of(3).district(1).word(5, 0, 0, 0).speaker(0, 1, 0).round(1, 0, 2).round(2, 1, 0));
+        WordSeats one = Town.of(3).district(1).word(5, 0, 0, 0).speaker(0, 1, 0).round(1, 0, 2).round(2, 1, 0).seated();
         due.row("one of both is dumb: least(", Due.ints(5, -1, -1), one::least);
     }
 
     @Says("(SAID or ROUND)")
     static void termIII_roundByOthersThatAreSaidRound(Due due) {
-        WordSeats x = seated(doubled());
+        WordSeats x = doubled().seated();
         int length = 12;
         for (int meaning = 0; meaning < 8; meaning++) {
             due.is("least(" + meaning + ")", length, x.least(meaning));
             length = 2 * length + 1;
         }
         // The shorter of both ways counts inside another one too: 1 is said by 9 letters, round by 3.
-        WordSeats mixed = seated(Town.of(3).district(1).district(1).word(1, 0, 0, 0).word(9, 1, 0, 1)
-            .speaker(0, 1, 0).speaker(1, 1, 1).round(2, 1, 1).round(1, 0, 0));
+        WordSeats mixed = Town.of(3).district(1).district(1).word(1, 0, 0, 0).word(9, 1, 0, 1)
+            .speaker(0, 1, 0).speaker(1, 1, 1).round(2, 1, 1).round(1, 0, 0).seated();
         due.row("mixed: said(", Due.ints(1, 9, -1), mixed::said);
         due.row("mixed: least(", Due.ints(1, 3, 7), mixed::least);
     }
 
     @Says("and one more together;")
     static void termIII_roundTakesOneMore(Due due) {
-        WordSeats x = seated(Town.of(3).district(1).district(1).word(4, 0, 0, 0).word(9, 1, 0, 1)
-            .speaker(0, 1, 0).speaker(1, 1, 1).round(1, 0, 0).round(2, 0, 1));
+        WordSeats x = Town.of(3).district(1).district(1).word(4, 0, 0, 0).word(9, 1, 0, 1)
+            .speaker(0, 1, 0).speaker(1, 1, 1).round(1, 0, 0).round(2, 0, 1).seated();
         due.is("4, 4 and one: least(1)", 9, x.least(1));
         due.is("4, 9 and one: least(2)", 14, x.least(2));
     }
 
     @Says("LEAST: the least by any.")
     static void termIII_leastByAny(Due due) {
-        WordSeats x = seated(Town.of(3).district(1).district(1).word(12, 0, 0, 0).word(2, 1, 0, 1)
-            .speaker(0, 1, 0).speaker(1, 1, 1).round(2, 0, 0).round(2, 1, 0).round(2, 0, 1).round(0, 1, 1));
+        WordSeats x = Town.of(3).district(1).district(1).word(12, 0, 0, 0).word(2, 1, 0, 1)
+            .speaker(0, 1, 0).speaker(1, 1, 1).round(2, 0, 0).round(2, 1, 0).round(2, 0, 1).round(0, 1, 1).seated();
         due.is("said by 12, round by 5: least(0)", 5, x.least(0));
         due.is("said by 2: least(1)", 2, x.least(1));
         due.is("11, 8 and 8: least(2)", 8, x.least(2));
@@ -98,7 +79,7 @@ final class TongueTest {
 
     @Says("DUMB: it cannot be said so.")
     static void termIII_dumb(Due due) {
-        WordSeats ring = seated(Town.of(4).district(1).word(4, 0, 0, 2).speaker(0, 1, 2).round(0, 1, 1).round(1, 0, 2));
+        WordSeats ring = Town.of(4).district(1).word(4, 0, 0, 2).speaker(0, 1, 2).round(0, 1, 1).round(1, 0, 2).seated();
         // 0 and 1 need one another, 3 nobody means.
         due.is("ring: dumb()", 11, ring.dumb());
         due.row("ring: least(", Due.ints(-1, -1, 4, -1), ring::least);
@@ -110,7 +91,7 @@ final class TongueTest {
         due.is("9 times 4: cost(0)", 36, x.cost(0));
         due.is("2 times 7 and 12: cost(1)", 38, x.cost(1));
         due.is("1 times 7: cost(3)", 7, x.cost(3));
-        WordSeats y = seated(doubled());
+        WordSeats y = doubled().seated();
         due.is("99 times 12 and 1663: cost(0)", 99 * 1675, y.cost(0));
     }
 
@@ -147,7 +128,7 @@ final class TongueTest {
     static void promise29_noneSuch(Due due) {
         due.all("said(", -2, twoSit()::said, -1, 5, 8, FAR, FAR_BELOW);
         due.all("no chamber: said(", -2, new WordSeats()::said, -1, 0, 7);
-        due.row("one meaning: said(", Due.ints(-1, -2), bare()::said);
+        due.row("one meaning: said(", Due.ints(-1, -2), Town.bare()::said);
     }
 
     @Says("LEAST of it.")
@@ -171,12 +152,12 @@ final class TongueTest {
     static void promise31_theFirstByWhichItIsLeast(Due due) {
         due.is("rounds 0 and 3 are alike: round(3)", 0, twoSit().round(3));
         // Round 0 is the first for 2, but longer; 2 and 3 are alike.
-        WordSeats x = seated(Town.of(3).district(1).word(4, 0, 0, 0).speaker(0, 1, 0)
-            .round(2, 1, 0).round(1, 0, 0).round(2, 0, 0).round(2, 0, 0));
+        WordSeats x = Town.of(3).district(1).word(4, 0, 0, 0).speaker(0, 1, 0)
+            .round(2, 1, 0).round(1, 0, 0).round(2, 0, 0).round(2, 0, 0).seated();
         due.is("least(2)", 9, x.least(2));
         due.is("round(2)", 2, x.round(2));
         due.is("round(1)", 1, x.round(1));
-        due.row("doubled: round(1 + ", Due.ints(6, 5, 4, 3, 2, 1, 0), i -> seated(doubled()).round(1 + i));
+        due.row("doubled: round(1 + ", Due.ints(6, 5, 4, 3, 2, 1, 0), i -> doubled().seated().round(1 + i));
     }
 
     @Says("NONE: it is SAID so,")
@@ -184,13 +165,13 @@ final class TongueTest {
         WordSeats x = twoSit();
         due.row("round(", Due.ints(-1, -1, -1), x::round);
         // By 9 letters, and round by 4, 4 and one: as short.
-        WordSeats even = seated(Town.of(2).district(1).district(1).word(4, 0, 0, 0).word(9, 1, 0, 1)
-            .speaker(0, 1, 0).speaker(1, 1, 1).round(1, 0, 0));
+        WordSeats even = Town.of(2).district(1).district(1).word(4, 0, 0, 0).word(9, 1, 0, 1)
+            .speaker(0, 1, 0).speaker(1, 1, 1).round(1, 0, 0).seated();
         due.is("as short: said(1)", 9, even.said(1));
         due.is("as short: least(1)", 9, even.least(1));
         due.is("as short: round(1)", -1, even.round(1));
-        WordSeats shorter = seated(Town.of(2).district(1).district(1).word(4, 0, 0, 0).word(10, 1, 0, 1)
-            .speaker(0, 1, 0).speaker(1, 1, 1).round(1, 0, 0));
+        WordSeats shorter = Town.of(2).district(1).district(1).word(4, 0, 0, 0).word(10, 1, 0, 1)
+            .speaker(0, 1, 0).speaker(1, 1, 1).round(1, 0, 0).seated();
         due.is("one longer: round(1)", 0, shorter.round(1));
     }
 
@@ -210,9 +191,9 @@ final class TongueTest {
     static void promise32_dumbMeanings(Due due) {
         due.is("nobody sits: dumb()", 31, Due.chamber(Texts.TONGUE).dumb());
         due.is("dumb()", 16, twoSit().dumb());
-        due.is("none: dumb()", 0, seated(doubled()).dumb());
+        due.is("none: dumb()", 0, doubled().seated().dumb());
         due.is("eight: dumb()", 255, doubled().open().dumb());
-        due.is("one: dumb()", 1, bare().dumb());
+        due.is("one: dumb()", 1, Town.bare().dumb());
     }
 
     @Says("-2: there is no CHAMBER.")
@@ -232,14 +213,14 @@ final class TongueTest {
     static void promise33_noneSuch(Due due) {
         due.all("cost(", -2, twoSit()::cost, -1, 4, FAR, FAR_BELOW);
         due.is("no chamber: cost(0)", -2, new WordSeats().cost(0));
-        due.is("no speakers: cost(0)", -2, bare().cost(0));
+        due.is("no speakers: cost(0)", -2, Town.bare().cost(0));
     }
 
     @Says("Of all.")
     static void promise34_ofAll(Due due) {
         due.is("costs()", 243, twoSit().costs());
         due.is("nobody sits: costs()", 920, Due.chamber(Texts.TONGUE).costs());
-        due.is("no speakers: costs()", 0, bare().costs());
+        due.is("no speakers: costs()", 0, Town.bare().costs());
     }
 
     @Says("-2: there is no CHAMBER.")
@@ -250,20 +231,21 @@ final class TongueTest {
     @Says("COST of all, if a set of WORDS (bits) were SITTING.")
     static void promise35_ifASetWereSitting(Due due) {
         WordSeats x = twoSit();
-        int[][] sets = {{0, 920}, {1, 300}, {2, 730}, {3, 216}, {4, 623}, {5, 243}, {6, 598}, {8, 772}, {9, 234}, {10, 582}, {15, 192}};
+        int[][] sets = {{0, 920}, {1, 300}, {2, 730}, {3, 216}, {4, 623}, {5, 243}, {6, 598}, {8, 772},
+            {9, 234}, {10, 582}, {15, 192}};
         for (int[] set : sets) {
             due.is("by(" + set[0] + ")", set[1], x.by(set[0]));
         }
         due.is("nothing happens: sitting()", 5, x.sitting());
         // Dead WORDS are WORDS too.
-        due.is("the dead: by(14)", 6 * 40 + 5 * (6 + 4) + 4 * 4 + 3 * (5 + 4), buried().by(14));
+        due.is("the dead: by(14)", 6 * 40 + 5 * (6 + 4) + 4 * 4 + 3 * (5 + 4), Texts.buried().by(14));
     }
 
     @Says("-2: there is no such set,")
     static void promise35_noSuchSet(Due due) {
         WordSeats x = Due.chamber(Texts.TONGUE);
         due.all("by(", -2, x::by, -1, 16, 17, 512, FAR, FAR_BELOW);
-        due.row("no words: by(", Due.ints(0, -2), bare()::by);
+        due.row("no words: by(", Due.ints(0, -2), Town.bare()::by);
         Town nine = Town.of(1).district(1).speaker(0, 2, 0);
         for (int i = 0; i < 9; i++) {
             nine.word(9 - i, 0, 0, 0);
@@ -283,7 +265,7 @@ final class TongueTest {
     static void promise36_theDistrictsWord(Due due) {
         WordSeats x = Due.chamber(Texts.TONGUE);
         due.row("cheapest(", Due.ints(0, 2), x::cheapest);
-        WordSeats dead = buried();
+        WordSeats dead = Texts.buried();
         for (int speaker = 0; speaker < 4; speaker++) {
             dead.need(speaker, 2);
         }
@@ -309,12 +291,12 @@ final class TongueTest {
         // With word 2 in district 1: by(5) is 243, by(6) 598.
         due.is("cheapest(0)", 0, x.cheapest(0));
         // Word 0 sits and says all; word 1, by fewer letters, says less without it.
-        WordSeats y = seated(Town.of(2).district(1).word(5, 0, 0, 0, 1).word(1, 0, 0, 0).speaker(0, 1, 0, 1));
+        WordSeats y = Town.of(2).district(1).word(5, 0, 0, 0, 1).word(1, 0, 0, 0).speaker(0, 1, 0, 1).seated();
         due.is("10 against 41: cheapest(0)", 0, y.cheapest(0));
         due.is("nothing happens: sitting()", 1, y.sitting());
         // In district 1 somebody means the same, so that district 0 had better say the other.
-        WordSeats z = seated(Town.of(2).district(1).district(1).word(5, 0, 0, 0).word(5, 0, 0, 1).word(5, 1, 0, 0)
-            .speaker(0, 2, 0).speaker(0, 1, 1).speaker(1, 1, 0));
+        WordSeats z = Town.of(2).district(1).district(1).word(5, 0, 0, 0).word(5, 0, 0, 1).word(5, 1, 0, 0)
+            .speaker(0, 2, 0).speaker(0, 1, 1).speaker(1, 1, 0).seated();
         due.is("sitting()", 5, z.sitting());
         due.is("as district 1 has it: cheapest(0)", 1, z.cheapest(0));
     }
@@ -355,13 +337,14 @@ final class TongueTest {
 
     @Says("(not dead)")
     static void promise37_notDead(Due due) {
-        WordSeats x = buried();
+        WordSeats x = Texts.buried();
         due.row("cover(", Due.ints(0, 1, -1, -1, -1), x::cover);
     }
 
     @Says("by which all of a set (bits) of MEANINGS can be said")
     static void promise37_allOfASet(Due due) {
-        WordSeats x = Town.of(8).district(1).word(1, 0, 0, 0, 1, 2).word(1, 0, 0, 2, 3, 4).word(1, 0, 0, 5, 6, 7).word(1, 0, 0, 0, 7).open();
+        WordSeats x = Town.of(8).district(1).word(1, 0, 0, 0, 1, 2).word(1, 0, 0, 2, 3, 4).word(1, 0, 0, 5, 6, 7)
+            .word(1, 0, 0, 0, 7).open();
         int[][] sets = {{7, 1}, {28, 1}, {129, 1}, {15, 2}, {31, 2}, {224, 1}, {225, 2}, {255, 3}};
         for (int[] set : sets) {
             due.is("cover(" + set[0] + ")", set[1], x.cover(set[0]));
@@ -389,7 +372,7 @@ final class TongueTest {
     static void promise37_noneDo(Due due) {
         WordSeats x = Due.chamber(Texts.TONGUE);
         due.all("4 is dumb: cover(", -1, x::cover, 16, 17, 31);
-        due.row("no words: cover(", Due.ints(0, -1, -2), bare()::cover);
+        due.row("no words: cover(", Due.ints(0, -1, -2), Town.bare()::cover);
     }
 
     @Says("-2: there is no such set,")
@@ -428,7 +411,7 @@ final class TongueTest {
     @Says("NONE,")
     static void promise38_noneDo(Due due) {
         due.all("4 is dumb: covers(", -1, Due.chamber(Texts.TONGUE)::covers, 16, 17, 31);
-        due.row("the dead are none: covers(", Due.ints(0, 1, -1, -1), buried()::covers);
+        due.row("the dead are none: covers(", Due.ints(0, 1, -1, -1), Texts.buried()::covers);
     }
 
     @Says("-2 likewise.")
@@ -442,7 +425,7 @@ final class TongueTest {
         due.is("house()", 234, Due.chamber(Texts.TONGUE).house());
         due.is("whoever sits: house()", 234, twoSit().house());
         // Word 0 alone is left: 6 times 3, and 40 for each of 5 other needs.
-        due.is("the others are dead: house()", 18 + 40 * (5 + 5 + 4 + 3 + 3), buried().house());
+        due.is("the others are dead: house()", 18 + 40 * (5 + 5 + 4 + 3 + 3), Texts.buried().house());
         // Both words of one district would say all.
         WordSeats one = Town.of(2).district(1).word(1, 0, 0, 0).word(1, 0, 0, 1).speaker(0, 1, 0, 1).open();
         due.is("one of a district: house()", 41, one.house());
@@ -453,7 +436,7 @@ final class TongueTest {
         WordSeats x = doubled().open();
         due.is("dearer by word 0 than dumb: by(1)", 99 * 1675, x.by(1));
         due.is("house()", 99 * 80, x.house());
-        due.is("no districts: house()", 0, bare().house());
+        due.is("no districts: house()", 0, Town.bare().house());
     }
 
     @Says("the least COST of all that there can be.")
@@ -471,7 +454,7 @@ final class TongueTest {
     @Says("Who, as bits:")
     static void promise40_who(Due due) {
         due.is("housed()", 9, Due.chamber(Texts.TONGUE).housed());
-        due.is("the others are dead: housed()", 1, buried().housed());
+        due.is("the others are dead: housed()", 1, Texts.buried().housed());
         due.is("nothing happens: sitting()", 0, Due.chamber(Texts.TONGUE).sitting());
     }
 
@@ -481,7 +464,7 @@ final class TongueTest {
         due.is("words 1, 2 or both: housed()", 2, x.housed());
         due.is("nobody is as cheap: housed()", 0, Town.of(2).district(1).word(5, 0, 0, 0).speaker(0, 3, 1).open().housed());
         due.is("nobody is cheaper: housed()", 0, doubled().open().housed());
-        due.is("no districts: housed()", 0, bare().housed());
+        due.is("no districts: housed()", 0, Town.bare().housed());
     }
 
     @Says("-2 likewise.")
@@ -505,7 +488,7 @@ final class TongueTest {
 
     @Says("(that is not dead),")
     static void termV_notToTheDead(Due due) {
-        WordSeats x = buried();
+        WordSeats x = Texts.buried();
         due.row("feint(", Due.ints(-1, -1, -1, -1), x::feint);
         due.is("restless()", 0, x.restless());
     }
@@ -546,6 +529,10 @@ final class TongueTest {
         y.bill(1, 70);
         due.is("approve, bar 70: sits(0, 3)", -1, y.sits(0, 3));
         due.is("approve, bar 70: restless()", 0, y.restless());
+        // Speaker 0 likes word 0 more; word 1, the longer one, has its votes all the same.
+        WordSeats z = Town.of(2).law("approve").district(1).word(3, 0, 0, 0, 1).word(5, 0, 0, 0).speaker(0, 5, 0, 1).open();
+        due.is("approve: sits(0, 3)", 1, z.sits(0, 3));
+        due.is("approve, the other as ever: feint(0)", -1, z.feint(0));
     }
 
     @Says("all others as ever.")
@@ -565,7 +552,8 @@ final class TongueTest {
     @Says("It GAINS, if it LIKES the one that SITS then more than the one that SITS as all is")
     static void termV_gainsIfItLikesWhoSitsMore(Due due) {
         // Speaker 2 likes words 0 and 1 alike: that word 1 would sit by its votes is no gain.
-        WordSeats x = Town.of(3).district(1).word(5, 0, 0, 0).word(5, 0, 0, 0, 1).speaker(0, 4, 0).speaker(0, 3, 1).speaker(0, 2, 0).open();
+        WordSeats x = Town.of(3).district(1).word(5, 0, 0, 0).word(5, 0, 0, 0, 1)
+            .speaker(0, 4, 0).speaker(0, 3, 1).speaker(0, 2, 0).open();
         due.is("as all is: sits(0, 0)", 0, x.sits(0, 0));
         due.is("by speaker 2 word 1 would: gains(2)", 0, x.gains(2));
         due.is("feint(2)", -1, x.feint(2));
@@ -620,7 +608,7 @@ final class TongueTest {
     static void promise41_noneSuch(Due due) {
         due.all("feint(", -2, Due.chamber(Texts.SPOILT)::feint, -1, 4, FAR, FAR_BELOW);
         due.is("no chamber: feint(0)", -2, new WordSeats().feint(0));
-        due.is("no speakers: feint(0)", -2, bare().feint(0));
+        due.is("no speakers: feint(0)", -2, Town.bare().feint(0));
     }
 
     @Says("By how much.")
@@ -649,6 +637,12 @@ final class TongueTest {
         due.is("restless()", 10, x.restless());
         x.bill(0, 1);
         due.is("runoff: restless()", 10, x.restless());
+        // The first and the last of nine each make 8 votes for word 2, against 6 for word 0.
+        Town town = Town.of(5).district(1).word(2, 0, 0, 0).word(9, 0, 0, 3).word(5, 0, 0, 1, 2).word(9, 0, 0, 4).speaker(0, 4, 1, 3);
+        for (int i = 0; i < 6; i++) {
+            town.speaker(0, 1, 0);
+        }
+        due.is("nine: restless()", 257, town.speaker(0, 4, 1, 2).speaker(0, 4, 2, 4).open().restless());
     }
 
     @Says("(0: it rests).")
@@ -656,7 +650,7 @@ final class TongueTest {
         WordSeats x = Due.chamber(Texts.SPOILT);
         x.bill(0, 2);
         due.is("strike: restless()", 0, x.restless());
-        due.is("no speakers: restless()", 0, bare().restless());
+        due.is("no speakers: restless()", 0, Town.bare().restless());
     }
 
     @Says("-2: there is no CHAMBER.")

@@ -70,4 +70,16 @@ final class Town {
     WordSeats open() {
         return Due.chamber(text());
     }
+
+    /** Behind its first TERM. */
+    WordSeats seated() {
+        WordSeats x = open();
+        x.term();
+        return x;
+    }
+
+    /** A CHAMBER of one LINE. */
+    static WordSeats bare() {
+        return of(1).open();
+    }
 }
