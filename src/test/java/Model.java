@@ -94,6 +94,7 @@ final class Model {
 
     record Token(String text, int place) { }
 
+    @SuppressWarnings("serial")
     static final class Fault extends Exception {
         final int what, place;
 
