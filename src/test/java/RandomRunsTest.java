@@ -114,12 +114,20 @@ final class RandomRunsTest {
 
     private String text() {
         int meanings = within(2, 8), districts = within(0, 4), words = districts == 0 ? 0 : within(0, 9);
-        int speakers = districts == 0 ? 0 : within(0, random.nextBoolean() ? 6 : 9), rounds = within(0, 8);
+        int speakers = districts == 0 ? 0 : within(0, random.nextBoolean() ? 6 : 9), rounds = within(0, 8), dies = within(1, 4);
+        // Many in one place: else few are struck, few spoil, and hardly a SPEAKER GAINS.
+        if (random.nextBoolean()) {
+            meanings = within(4, 8);
+            districts = within(1, 2);
+            words = within(5, 9);
+            speakers = within(5, 9);
+            dies = within(1, 9);
+        }
         if (random.nextInt(15) == 0) words = Math.min(districts, 1) * 10;
         if (random.nextInt(15) == 0) districts = 5;
         int letters = random.nextBoolean() ? 12 : 3, votes = random.nextBoolean() ? 99 : 3;
         StringBuilder out = new StringBuilder("chamber meanings " + meanings + " law " + Model.LAWS[random.nextInt(4)]
-            + " bar " + (random.nextBoolean() ? 0 : within(0, 60)) + " dies " + within(1, 4) + ";");
+            + " bar " + (random.nextBoolean() ? 0 : within(0, 60)) + " dies " + dies + ";");
         for (int i = 0; i < districts; i++) out.append("district seats ").append(within(1, 9)).append(";\n");
         int most = within(1, 4);
         for (int i = 0; i < words; i++) {
@@ -142,7 +150,7 @@ final class RandomRunsTest {
     private void change() {
         int k;
         switch (random.nextInt(12)) {
-            case 0, 1, 2 -> is("term()", m.term(), x.term());
+            case 0, 1, 2 -> terms(random.nextInt(40) == 0 ? 61 : 1);
             case 3 -> is("undo()", m.undo(), x.undo());
             case 4 -> {
                 int w = of(0, m.now.words.size() - 1), d = of(0, m.now.seats.size() - 1);
@@ -181,6 +189,10 @@ final class RandomRunsTest {
         }
     }
 
+    private void terms(int n) {
+        for (int i = 0; i < n && calls < CALLS; i++) is("term()", m.term(), x.term());
+    }
+
     private void write(int slot, int i, long v) {
         is("write(" + slot + ", " + i + ", " + v + ")", m.write(slot, i, v), x.write(slot, i, v));
     }
@@ -202,7 +214,9 @@ final class RandomRunsTest {
             case 7 -> is("wins(" + d + ", " + law + ")", m.wins(d, law), x.wins(d, law));
             case 8 -> is("sits(" + d + ", " + law + ")", m.sits(d, law), x.sits(d, law));
             case 9 -> is("with(" + d + ", " + law + ")", m.with(d, law), x.with(d, law));
-            case 10 -> is("struck(" + d + ", " + i + ")", m.struck(d, i), x.struck(d, i));
+            case 10 -> {
+                for (c = 0; c < 9; c++) is("struck(" + d + ", " + c + ")", m.struck(d, c), x.struck(d, c));
+            }
             case 11 -> is("beats(" + w + ", " + w2 + ")", m.beats(w, w2), x.beats(w, w2));
             case 12 -> is("best(" + d + ")", m.best(d), x.best(d));
             case 13 -> is("unlike(" + law + ", " + law2 + ")", m.unlike(law, law2), x.unlike(law, law2));
@@ -233,7 +247,13 @@ final class RandomRunsTest {
             case 32 -> is("housed()", m.housed(), x.housed());
             case 33 -> is("feint(" + s + ")", m.feint(s), x.feint(s));
             case 34 -> is("gains(" + s + ")", m.gains(s), x.gains(s));
-            case 35 -> is("restless()", m.restless(), x.restless());
+            case 35 -> {
+                is("restless()", m.restless(), x.restless());
+                for (c = 0; c < 9; c++) {
+                    is("feint(" + c + ")", m.feint(c), x.feint(c));
+                    is("gains(" + c + ")", m.gains(c), x.gains(c));
+                }
+            }
             case 36 -> is("seats(" + p + ")", m.seats(p), x.seats(p));
             case 37 -> is("majority(" + set + ")", m.majority(set), x.majority(set));
             case 38 -> {
