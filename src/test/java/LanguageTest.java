@@ -163,7 +163,7 @@ final class LanguageTest extends TreePathScanner<Void, Void> {
         boolean isSuper = called.getKind() == ElementKind.CONSTRUCTOR;
         String name = owner + "." + called.getSimpleName();
         ask(isOwn || isSuper || LIBRARY.contains(name), 4, "calls " + name, tree);
-        if (isOwn && within != null) calls.get(within).add(called);
+        if (!isSuper && within != null) calls.get(within).add(called);
         return super.visitMethodInvocation(tree, none);
     }
 
